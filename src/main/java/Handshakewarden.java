@@ -26,7 +26,7 @@ public final class Handshakewarden {
     private static final int OPEN_LIMIT = 12;
     private static final int CONFIGURATION_LIMIT = 600;
     /** Far above the states of any part, the pairs of two parts and the rows' configurations. */
-    private static final int STATE_LIMIT = 4096;
+    private static final int STATE_LIMIT = 32768;
     private static final int PAIR_LIMIT = 65536;
 
     private static final int END = 0;
@@ -1413,7 +1413,7 @@ public final class Handshakewarden {
             Arrays.fill(numbers, NONE);
             int count = 0;
             count = come(first, count);
-            for (int place = 0; place < count; place++) {
+            for (int place = 0; place < count && place < PLACE_LIMIT; place++) {
                 int draft = cell(order, place);
                 for (int kind = 0; kind < KINDS; kind++) {
                     count = come(cell(cells, Whole.WIDTH * draft + Whole.BEHIND + kind), count);
@@ -1569,8 +1569,7 @@ public final class Handshakewarden {
         private long nextSets(long[] sets, int place) {
             long together = 0;
             for (int kind = 0; kind < KINDS; kind++) {
-                int behind = whole.behind(place, kind);
-                together |= behind == NONE ? 0 : setAt(sets, behind);
+                together |= setAt(sets, whole.tells(place, Whole.BEHIND + kind));
             }
             return together;
         }
@@ -1632,8 +1631,7 @@ public final class Handshakewarden {
         private long behindAll(long set, int kind) {
             long together = 0;
             for (int place = 0; place < count; place++) {
-                int behind = has(set, place) ? whole.behind(place, kind) : NONE;
-                together |= behind == NONE ? 0 : setAt(shown, behind);
+                together |= has(set, place) ? setAt(shown, whole.behind(place, kind)) : 0;
             }
             return together;
         }
@@ -1798,7 +1796,7 @@ public final class Handshakewarden {
             Arrays.fill(then, 0);
             seen.start(stepColumn, stepColumn + 1, CONFIGURATION_LIMIT);
             seen.numberOf(then);
-            for (int number = 0; !full && number < seen.count; number++) {
+            for (int number = 0; number < seen.count && number < CONFIGURATION_LIMIT; number++) {
                 seen.copyRow(number, now);
                 lookAtNow();
             }

@@ -1,0 +1,99 @@
+import java.lang.management.ManagementFactory;
+
+/** All calls of a run live in one room: what 512 of the dearest calls make stays far below it. */
+public final class RoomTest {
+    /** 7.3 million elements of four bytes, and objects, would be some 30 million bytes. */
+    private static final long ROOM = 15_000_000;
+
+    private static final String MANY = "(loop x a>b{0:x,1:x}|loop x c>d{0:x,1:x,2:x})";
+    private static final String LONG = "loop x a>b{0:b>c{1:c>d{2:d>e{3:e>f{4:f>a{5:a>b{6:b>c{7:c>d{8:d>e{9:x}}}}}}}}},"
+            + "1:b>c{2:c>d{3:d>e{4:e>f{5:f>a{6:a>b{7:b>c{8:c>d{9:d>e{0:end}}}}}}}}}}";
+
+    public static void main(String[] args) {
+        fits("new objects", RoomTest::newObjects);
+        fits("reading and cutting", RoomTest::readAndCut);
+        fits("looking through", RoomTest::lookThrough);
+        fits("weaving and counting", RoomTest::weave);
+        fits("parts and images", RoomTest::parts);
+        fits("texts with errors", RoomTest::errors);
+        Check.end("RoomTest");
+    }
+
+    private static void fits(String name, Runnable run) {
+        run.run();
+        com.sun.management.ThreadMXBean threads =
+                (com.sun.management.ThreadMXBean) ManagementFactory.getThreadMXBean();
+        long before = threads.getCurrentThreadAllocatedBytes();
+        run.run();
+        long made = threads.getCurrentThreadAllocatedBytes() - before;
+        System.out.println(name + ": " + made + " bytes");
+        Check.due(name + " fits in its room", true, made < ROOM);
+    }
+
+    private static void newObjects() {
+        for (int i = 0; i < 64; i++) {
+            new Handshakewarden().stands();
+        }
+    }
+
+    private static void readAndCut() {
+        Handshakewarden hall = Check.hallOf(LONG);
+        for (int call = 40; call + 15 <= 512; call += 15) {
+            Check.read(hall, call % 4, LONG);
+            hall.cut(call % 4);
+            hall.errors();
+        }
+        Handshakewarden other = new Handshakewarden();
+        for (int call = 0; call + 4 <= 512; call += 4) {
+            other.example(call / 4 % 5);
+            other.read(call / 4 % 4);
+            other.errors();
+            other.cutShare();
+        }
+    }
+
+    private static void lookThrough() {
+        Handshakewarden hall = Check.hallOf(MANY);
+        hall.part(0, 0, 0);
+        for (int call = 6; call + 4 <= 512; call += 4) {
+            hall.begin(0, 5);
+            hall.put(0);
+            hall.all(3, 0);
+            hall.least();
+        }
+    }
+
+    private static void weave() {
+        Handshakewarden hall = Check.hallOf(MANY, LONG);
+        for (int call = 30; call + 4 <= 512; call += 4) {
+            hall.begin(1, 1);
+            hall.back(2);
+            hall.rows(2, 12);
+            hall.rows(0, 12);
+        }
+    }
+
+    private static void parts() {
+        Handshakewarden hall = Check.hallOf("loop x a>b{0:b>a{1:x,2:end},3:b>a{4:end}}", "a>b{0:b>a{1:end}}");
+        for (int call = 20; call + 9 <= 512; call += 9) {
+            hall.part(0, 0, 0);
+            hall.mirror(0, 1);
+            hall.mirror(1, 2);
+            hall.part(1, 0, 3);
+            hall.isBelow(0, 2);
+            hall.showsAt(3, 0, 0);
+            hall.fit(1, 0);
+            hall.image(0);
+            hall.restore(0);
+        }
+    }
+
+    private static void errors() {
+        Handshakewarden hall = new Handshakewarden();
+        for (int call = 0; call + 5 <= 512; call += 5) {
+            Check.write(hall, "((((((((a>b{");
+            Check.outcome(() -> hall.read(0));
+            hall.errorPosition();
+        }
+    }
+}
