@@ -546,14 +546,14 @@ public final class Handshakewarden {
     private static int bytesIn(int word) {
         int count = 0;
         for (int shift = 24; shift >= 0; shift -= 8) {
-            count += (word >>> shift & 255) != 0 ? 1 : 0;
+            count += ((word >>> shift) & 255) != 0 ? 1 : 0;
         }
         return count;
     }
 
     private void appendWord(int word) {
         for (int shift = 24; shift >= 0; shift -= 8) {
-            int letter = word >>> shift & 255;
+            int letter = (word >>> shift) & 255;
             if (letter != 0) {
                 appendByte(letter);
             }
@@ -595,7 +595,7 @@ public final class Handshakewarden {
     }
 
     private static boolean hasBit(int set, int index) {
-        return index >= 0 && index < 31 && (set >> index & 1) != 0;
+        return index >= 0 && index < 31 && ((set >> index) & 1) != 0;
     }
 
     /** The number of the only role in a set; NONE if there is none, or more than one. */
@@ -616,18 +616,18 @@ public final class Handshakewarden {
     /** A queue is a number: four bits for each letter (its kind and 1), the first one lowest. */
     private static int lettersIn(int queue) {
         int count = 0;
-        for (int place = 0; place < BOUNDS && (queue >>> 4 * place) > 0; place++) {
+        for (int place = 0; place < BOUNDS && (queue >>> (4 * place)) > 0; place++) {
             count++;
         }
         return count;
     }
 
     private static int kindIn(int queue, int place) {
-        return (queue >>> 4 * place & 15) - 1;
+        return ((queue >>> (4 * place)) & 15) - 1;
     }
 
     private static int withLetter(int queue, int kind) {
-        return queue | kind + 1 << 4 * lettersIn(queue);
+        return queue | ((kind + 1) << (4 * lettersIn(queue)));
     }
 
     private static int withoutFirst(int queue) {
@@ -1232,7 +1232,7 @@ public final class Handshakewarden {
             if (!isFreeRole() || to == from) {
                 return fail();
             }
-            seen |= 1 << from | 1 << to;
+            seen |= (1 << from) | (1 << to);
             setCell(cells, Whole.WIDTH * place + Whole.FROM, from);
             setCell(cells, Whole.WIDTH * place + Whole.TO, to);
             advance();
@@ -1265,16 +1265,16 @@ public final class Handshakewarden {
                     break;
                 }
             }
-            return closed('}', place, kinds);
+            return closed(place, kinds);
         }
 
         /** Behind ten branches a "," leads to a KIND that stands already, or to no KIND at all. */
-        private int closed(int sign, int place, int kinds) {
+        private int closed(int place, int kinds) {
             if (isSign(',')) {
                 advance();
                 return fail();
             }
-            if (!isSign(sign)) {
+            if (!isSign('}')) {
                 return fail();
             }
             setCell(cells, Whole.WIDTH * place + Whole.KIND_SET, kinds);
@@ -1643,7 +1643,7 @@ public final class Handshakewarden {
         }
 
         private static long pair(int low, int high) {
-            return (long) high << 32 | low & 0xFFFFFFFFL;
+            return ((long) high << 32) | (low & 0xFFFFFFFFL);
         }
 
         private static long bit(int place) {

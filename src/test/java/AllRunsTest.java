@@ -15,6 +15,7 @@ public final class AllRunsTest {
         isAQuestion();
         rows();
         rowsThatAreMany();
+        rowsOfChains();
         wrongNumbers();
         Check.end("AllRunsTest");
     }
@@ -194,6 +195,17 @@ public final class AllRunsTest {
         Check.read(hall, 0, "end");
         hall.begin(0, 2);
         Check.due("nobody", 1, hall.least());
+        Check.read(hall, 0, "(" + turns('a', 'b') + "|(" + turns('c', 'd') + "|" + turns('e', 'f') + "))");
+        hall.begin(0, 2);
+        Check.due("nobody is hindered, but 9 * 9 * 9 are too many", NONE, hall.least());
+        finds(hall, 1, NONE, NONE, NONE, NONE, NONE);
+    }
+
+    /** Four letters, to and fro: nine configurations, as the queues have one letter at most. */
+    private static String turns(char one, char other) {
+        String there = one + ">" + other + "{0:";
+        String back = other + ">" + one + "{0:";
+        return there + back + there + back + "end}}}}";
     }
 
     private static void isAQuestion() {
@@ -241,6 +253,26 @@ public final class AllRunsTest {
             due *= 30;
         }
         Check.due("no run is needed", NONE, hall.stands());
+    }
+
+    /** Three chains of four letters side by side: the letters of each one are in order. */
+    private static void rowsOfChains() {
+        Handshakewarden hall = Check.hallOf("(" + turns('a', 'b') + "|(" + turns('c', 'd') + "|"
+                + turns('e', 'f') + "))");
+        for (int length = 12; length >= 0; length--) {
+            long due = 0;
+            for (int i = 0; i <= 4; i++) {
+                for (int j = 0; j <= 4; j++) {
+                    int k = length - i - j;
+                    due += k >= 0 && k <= 4 ? factorial(length) / factorial(i) / factorial(j) / factorial(k) : 0;
+                }
+            }
+            Check.due("rows of " + length, due, hall.rows(0, length));
+        }
+    }
+
+    private static long factorial(int number) {
+        return number < 2 ? 1 : number * factorial(number - 1);
     }
 
     private static void wrongNumbers() {

@@ -13,6 +13,7 @@ public final class CutTest {
         partOfBeside();
         partStatesAreSets();
         wrongNumbers();
+        partOfManyPlaces();
         partThatCannotBe();
         Check.end("CutTest");
     }
@@ -27,8 +28,8 @@ public final class CutTest {
 
     private static void clash(String text, int role, int first, int second) {
         Handshakewarden hall = Check.hallOf("end", text);
-        Check.due("cut of " + text, NONE, hall.cut(1));
         Check.due("role of " + text, role, hall.why(1, 0));
+        Check.due("cut of " + text, NONE, hall.cut(1));
         Check.due("first place of " + text, first, hall.why(1, 1));
         Check.due("second place of " + text, second, hall.why(1, 2));
     }
@@ -53,6 +54,8 @@ public final class CutTest {
         clash("a>b{0:c>d{0:end},1:c>a{0:end}}", 2, 1, 2);
         clash("a>b{0:a>c{0:end},1:b>c{1:end}}", 2, 1, 2);
         clash("b>c{0:a>b{0:end},1:b>c{0:end}}", 0, 1, 3);
+        // What stands for END may be a LETTER of the same sender; they do not go together.
+        clash("a>b{0:loop x b>a{0:x},1:b>c{0:end}}", 2, 1, 2);
     }
 
     private static void whyOfEnds() {
@@ -173,6 +176,22 @@ public final class CutTest {
         Check.dueIllegalArgument("part role", () -> hall.part(0, -1, 0));
         Check.dueIllegalArgument("part slot", () -> hall.part(0, 0, 8));
         Check.dueIllegalArgument("part slot", () -> hall.part(0, 0, -1));
+    }
+
+    /** Places 33 and 34 are LETTERs of a, each one alone a state of it. */
+    private static void partOfManyPlaces() {
+        String left = "(end|".repeat(9);
+        String right = ")".repeat(9);
+        Handshakewarden hall = Check.hallOf("a>b{0:(end|(end|" + left + "end" + right + ")),1:" + left
+                + "a>b{0:a>b{1:end}}" + right + ",2:" + left + "a>b{2:a>b{3:end}}" + right + "}");
+        Check.due("places", 35, hall.places(0));
+        Check.due("the last but one", 2, hall.placeAt(0, 33, 3));
+        Check.due("the last one", 8, hall.placeAt(0, 34, 3));
+        Check.due("a", 6, hall.part(0, 0, 0));
+        Check.due("b", 6, hall.part(0, 1, 1));
+        Check.due("they fit", true, hall.fit(0, 1));
+        Check.due("kinds", 2, hall.stateAt(0, hall.step(0, hall.step(0, 0, 1), 0), 2));
+        Check.due("kinds", 8, hall.stateAt(0, hall.step(0, hall.step(0, 0, 2), 2), 2));
     }
 
     private static void partThatCannotBe() {

@@ -3,6 +3,7 @@ public final class ImageTest {
     public static void main(String[] args) {
         image();
         restoreWholesAndSlots();
+        restoreEachOne();
         restoreRunAndMonitor();
         restoreNoRun();
         whatStays();
@@ -43,6 +44,34 @@ public final class ImageTest {
             hall.mirror(4, 4);
             Check.read(hall, 1, "a>b{0:end}");
         }
+    }
+
+    private static void restoreEachOne() {
+        Handshakewarden hall = new Handshakewarden();
+        Check.read(hall, 0, "a>b{0:b>c{0:end}}");
+        hall.begin(0, 1);
+        hall.send(0, 0);
+        hall.hear(1);
+        hall.image(0);
+        for (int whole = 3; whole >= 0; whole--) {
+            Check.read(hall, whole, "a>b{0:end}");
+        }
+        for (int slot = 0; slot < 8; slot++) {
+            hall.part(0, 1, slot);
+        }
+        hall.begin(0, 1);
+        hall.restore(0);
+        Check.due("whole 0", 3, hall.places(0));
+        for (int whole = 1; whole < 4; whole++) {
+            Check.due("whole " + whole, 1, hall.places(whole));
+        }
+        for (int slot = 0; slot < 8; slot++) {
+            Check.due("slot " + slot, 0, hall.roleOf(slot));
+        }
+        Check.due("state of a", true, hall.stateOf(0) != 0);
+        Check.due("state of b", true, hall.stateOf(1) != 0);
+        Check.due("state of c", 0, hall.stateOf(2));
+        Check.due("b goes on", 1, hall.send(1, 0));
     }
 
     private static void restoreRunAndMonitor() {
@@ -152,6 +181,11 @@ public final class ImageTest {
         Check.due("f's state", sumOf(1, 3, 1, 1, 1, 1, 1, 1, 1, 1, 3, 1, 1, 0, 2), hall.checksum());
         hall.hear(3);
         Check.due("d's state", sumOf(1, 3, 1, 1, 1, 1, 1, 1, 1, 1, 3, 1, 1, 1, 2), hall.checksum());
+        Check.read(hall, 2, "a>f{3:end}");
+        hall.begin(2, 1);
+        hall.send(0, 3);
+        Check.due("a's state", sumOf(1, 3, 2, 1, 1, 1, 1, 1, 1, 1, 3, 1, 1, 0), hall.checksum());
+        Check.read(hall, 2, "end");
         hall.begin(0, 1);
         Check.due("no role", sumOf(1, 3, 1, 1, 1, 1, 1, 1, 1, 1, 3, 1), hall.checksum());
     }

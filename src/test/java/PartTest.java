@@ -222,5 +222,9 @@ public final class PartTest {
         fits("a>b{0:end}", 0, "b>a{0:end}", 1, false);
         fits("a>b{0:a>c{0:end}}", 0, "a>b{0:end}", 1, false);
         fits("a>b{0:end}", 0, "a>b{0:b>c{0:end}}", 1, false);
+        // What the other one does not know is not looked at, but its roles are.
+        fits("b>a{0:end,1:a>c{0:end}}", 0, "b>a{0:end}", 1, false);
+        fits("a>b{0:end}", 0, "a>b{0:end,1:b>c{0:end}}", 1, false);
+        fits("a>b{0:end}", 0, "a>b{0:end,1:b>a{0:end}}", 1, true);
     }
 }

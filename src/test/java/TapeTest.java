@@ -19,6 +19,7 @@ public final class TapeTest {
         readsLoops();
         readsLetters();
         readsBeside();
+        readsAgain();
         readsDepth();
         examples();
         Check.end("TapeTest");
@@ -141,6 +142,11 @@ public final class TapeTest {
         error("endd", 0);
         error("eend", 0);
         error("enx", 0);
+        error("ead", 0);
+        error("ent", 0);
+        error("laop x end", 0);
+        error("loap x end", 0);
+        error("look x end", 0);
         error("e nd", 2);
         error("End", 0);
         error("end end", 4);
@@ -238,6 +244,11 @@ public final class TapeTest {
         error("(a>b{0:end}|(c>d{0:end}|e>a{0:end}))", 26);
         error("((a>b{0:end}|end)|a>b{0:end})", 18);
         error("((a>b{0:end}|c>d{0:end})|d>e{0:end})", 25);
+        error("(a>b{0:(end|end)}|a>c{0:end})", 18);
+        error("(a>b{0:(c>d{0:end}|e>f{0:end})}|b>a{0:end})", 32);
+        error("(a>b{0:(c>d{0:end}|e>f{0:end})}|c>d{0:end})", 32);
+        error("(a>b{0:(c>d{0:end}|e>f{0:end})}|f>e{0:end})", 32);
+        error("(a>b{0:end}|(c>d{0:end}|(e>f{0:end}|b>a{0:end})))", 36);
         error("a>b{0:(a>b{0:end}|end),1:(end|a>b{0:end})}", NO_ERROR);
         error("a>b{0:(a>b{0:end}|c>d{0:end}),1:b>a{2:end}}", NO_ERROR);
         error("a>b{0:(c>d{0:end}|a>b{0:end})}", NO_ERROR);
@@ -248,6 +259,21 @@ public final class TapeTest {
         error("loop x a>b{0:(end|end),1:x}", NO_ERROR);
         error("loop x (loop x a>b{0:x}|loop x c>d{0:x})", NO_ERROR);
         error("loop x (a>b{0:x}|end)", 14);
+        error("loop y loop z a>b{0:(end|end),1:y,2:z}", NO_ERROR);
+        error("loop z a>b{0:(loop y end|loop x end),1:y}", 39);
+        error("loop x a>b{0:(loop x c>d{0:x}|end),1:loop x end}", 42);
+    }
+
+    /** What an error leaves behind in the middle of a text is not there for the next text. */
+    private static void readsAgain() {
+        String[] texts = {"(a>b{0:end}|c>d{0:?", "loop x loop y a>b{0:?", "((((((((((((?", "a>b{0:end,0"};
+        for (String text : texts) {
+            Handshakewarden hall = new Handshakewarden();
+            Check.write(hall, text);
+            Check.dueIllegalArgument(text, () -> hall.read(0));
+            Check.due("a text behind " + text, 2, Check.read(hall, 0, "loop x loop y a>b{0:b>a{0:x,1:y}}"));
+            Check.due("another one", 4, Check.read(hall, 0, "(a>b{0:loop x end}|d>c{0:end,1:end})"));
+        }
     }
 
     private static void readsDepth() {

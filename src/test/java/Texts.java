@@ -119,8 +119,9 @@ final class Texts {
 
     private String beside(List<Integer> roles, int open) {
         int cut = 1 + random.nextInt(roles.size() - 1);
+        int again = random.nextInt(12) == 0 ? cut - 1 : cut;
         List<Integer> left = new ArrayList<>(roles.subList(0, cut));
-        List<Integer> right = new ArrayList<>(roles.subList(cut, roles.size()));
+        List<Integer> right = new ArrayList<>(roles.subList(again, roles.size()));
         String text = "(" + whole(left, List.of(), List.of(), open + 1, left.get(0));
         return text + "|" + whole(right, List.of(), List.of(), open + 1, right.get(0)) + ")" + blank();
     }
