@@ -25,7 +25,7 @@ public final class Handshakewarden {
     private static final int WOVEN_LIMIT = 40;
     private static final int OPEN_LIMIT = 12;
     private static final int CONFIGURATION_LIMIT = 600;
-    /** Far above the states of any part, the pairs of two parts and the rows' configurations. */
+    /** What the document does not limit is refused beyond these: states of a part, and pairs of them. */
     private static final int STATE_LIMIT = 32768;
     private static final int PAIR_LIMIT = 65536;
 
