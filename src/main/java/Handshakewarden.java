@@ -25,9 +25,13 @@ public final class Handshakewarden {
     private static final int WOVEN_LIMIT = 40;
     private static final int OPEN_LIMIT = 12;
     private static final int CONFIGURATION_LIMIT = 600;
-    /** What the document does not limit is refused beyond these: states of a part, and pairs of them. */
-    private static final int STATE_LIMIT = 32768;
-    private static final int PAIR_LIMIT = 65536;
+    /**
+     * What the document does not limit is refused beyond these, far above what a text of 240 bytes can
+     * reach: states of a part, configurations without queues, and words of pairs that were seen.
+     */
+    private static final int STATE_LIMIT = 1 << 18;
+    private static final int MEETING_LIMIT = 1 << 18;
+    private static final int SEEN_LIMIT = 1 << 22;
 
     private static final int END = 0;
     private static final int LETTER = 1;
@@ -206,14 +210,12 @@ public final class Handshakewarden {
     }
 
     public int shows(int slot, int other) throws IllegalArgumentException {
-        comparer.below(slotAt(slot), slotAt(other));
-        return comparer.rowLength();
+        return comparer.rowLength(slotAt(slot), slotAt(other));
     }
 
     public int showsAt(int slot, int other, int place)
             throws IllegalArgumentException, IndexOutOfBoundsException {
-        comparer.below(slotAt(slot), slotAt(other));
-        checkPlace(place, comparer.rowLength());
+        checkPlace(place, comparer.rowLength(slotAt(slot), slotAt(other)));
         return comparer.rowKind(place);
     }
 
@@ -608,9 +610,46 @@ public final class Handshakewarden {
         return NONE;
     }
 
+    /** Which column stands for a kind, where each kind of a set has one. */
+    private static int columnOf(int kinds, int kind) {
+        return Integer.bitCount(kinds & ((1 << kind) - 1));
+    }
+
+    /** The set of places that has just this one. */
+    private static long placeBit(int place) {
+        return place >= 0 && place < PLACE_LIMIT ? 1L << place : 0;
+    }
+
+    private static boolean hasPlace(long set, int place) {
+        return (set & placeBit(place)) != 0;
+    }
+
+    private static int lowestPlace(long set) {
+        int place = 0;
+        while (place < PLACE_LIMIT && !hasPlace(set, place)) {
+            place++;
+        }
+        return place;
+    }
+
+    private static long setAt(long[] sets, int index) {
+        return index >= 0 && index < sets.length ? sets[index] : 0;
+    }
+
+    private static void putSet(long[] sets, int index, long set) {
+        if (index >= 0 && index < sets.length) {
+            sets[index] = set;
+        }
+    }
+
     private static int[] wider(int[] row, int atLeast) {
         int length = Math.max(atLeast, 2 * row.length);
-        return length > row.length ? Arrays.copyOf(row, length) : row;
+        return atLeast > row.length ? Arrays.copyOf(row, length) : row;
+    }
+
+    private static long[] wider(long[] row, int atLeast) {
+        int length = Math.max(atLeast, 2 * row.length);
+        return atLeast > row.length ? Arrays.copyOf(row, length) : row;
     }
 
     /** A queue is a number: four bits for each letter (its kind and 1), the first one lowest. */
@@ -706,52 +745,120 @@ public final class Handshakewarden {
         }
     }
 
-    /** A part of a role: a row of cells for each state. */
+    /**
+     * A part of a role: a mark for each state (sort, other role and kinds), and its next states, a column
+     * for each kind of the part. It knows the places of its whole, too, of which its states are sets.
+     */
     private static final class Part {
         private static final int SORT = 0;
         private static final int OTHER = 1;
         private static final int KIND_SET = 2;
-        private static final int BEHIND = 3;
-        private static final int WIDTH = BEHIND + KINDS;
 
         private final int role;
         private final int count;
-        private final int[] cells;
+        /** All kinds that come in the part. */
+        private final int kinds;
         private final int others;
+        private final int[] marks;
+        private final int[] steps;
+        /** The set of places of the first state; the marks of places, and the sets that are behind them. */
+        private final long first;
+        private final int[] placeMarks;
+        private final long[] placeSteps;
+        private final boolean turned;
         private Part mirrored;
+        private Part fold;
 
-        Part(int role, int count, int[] cells) {
+        Part(int role, int kinds, int[] marks, int[] steps, long first, int[] placeMarks, long[] placeSteps) {
             this.role = role;
-            this.count = count;
-            this.cells = cells;
+            this.count = marks.length;
+            this.kinds = kinds;
+            this.marks = marks;
+            this.steps = steps;
+            this.first = first;
+            this.placeMarks = placeMarks;
+            this.placeSteps = placeSteps;
+            turned = false;
             int found = 0;
-            for (int state = 0; state < count; state++) {
-                int other = cell(cells, WIDTH * state + OTHER);
+            for (int state = 0; state < marks.length; state++) {
+                int other = otherIn(marks[state]);
                 found |= other == NONE ? 0 : 1 << other;
             }
             others = found;
         }
 
-        static Part justEnd(int role) {
-            int[] cells = new int[WIDTH];
-            clearState(cells, 0);
-            return new Part(role, 1, cells);
+        /** The mirror of a part that has just one other role; all but the roles and sorts is the same. */
+        private Part(Part that) {
+            role = that.onlyOther();
+            count = that.count;
+            kinds = that.kinds;
+            others = 1 << that.role;
+            marks = that.marks;
+            steps = that.steps;
+            first = that.first;
+            placeMarks = that.placeMarks;
+            placeSteps = that.placeSteps;
+            turned = !that.turned;
+            mirrored = that;
         }
 
-        static void clearState(int[] cells, int state) {
-            for (int column = 0; column < WIDTH; column++) {
-                boolean number = column == SORT || column == KIND_SET;
-                setCell(cells, WIDTH * state + column, number ? 0 : NONE);
+        static Part justEnd(int role) {
+            int[] mark = {markOf(END, NONE, 0)};
+            return new Part(role, 0, mark, new int[0], 1L, mark, new long[0]);
+        }
+
+        static int markOf(int sort, int other, int kinds) {
+            return kinds << 8 | (other + 1) << 4 | sort;
+        }
+
+        static int sortIn(int mark) {
+            return mark & 15;
+        }
+
+        static int otherIn(int mark) {
+            return ((mark >>> 4) & 15) - 1;
+        }
+
+        static int kindsIn(int mark) {
+            return mark >>> 8;
+        }
+
+        /** The mark of a state that is there. */
+        int markAt(int state) {
+            int mark = cell(marks, state);
+            if (!turned || sortIn(mark) == END) {
+                return mark;
             }
+            return markOf(sortIn(mark) == SEND ? HEAR : SEND, onlyOther(), kindsIn(mark));
         }
 
         int tells(int state, int what) {
-            boolean told = state >= 0 && state < count && what >= 0 && what < WIDTH;
-            return told && WIDTH * count <= cells.length ? cells[WIDTH * state + what] : NONE;
+            if (state < 0 || state >= count) {
+                return NONE;
+            }
+            int mark = markAt(state);
+            if (what == SORT) {
+                return sortIn(mark);
+            }
+            return what == OTHER ? otherIn(mark) : kindsIn(mark);
         }
 
         int behind(int state, int kind) {
-            return kind >= 0 ? tells(state, BEHIND + kind) : NONE;
+            if (state < 0 || state >= count || !hasBit(kinds, kind)) {
+                return NONE;
+            }
+            return cell(steps, Integer.bitCount(kinds) * state + columnOf(kinds, kind));
+        }
+
+        /** The places that are behind some places of the part's whole, for a kind. */
+        long placesBehind(long places, int kind) {
+            long together = 0;
+            int width = Integer.bitCount(kinds);
+            int column = columnOf(kinds, kind);
+            for (int place = 0; hasBit(kinds, kind) && place < placeMarks.length; place++) {
+                together |= hasPlace(places, place) ? setAt(placeSteps, width * place + column) : 0;
+            }
+            return together;
         }
 
         int onlyOther() {
@@ -761,23 +868,71 @@ public final class Handshakewarden {
         /** The mirror of a part that has just one other role. */
         Part turned() {
             if (mirrored == null) {
-                int[] turnedCells = Arrays.copyOf(cells, WIDTH * count);
-                for (int state = 0; state < count; state++) {
-                    int sort = tells(state, SORT);
-                    if (sort != END) {
-                        setCell(turnedCells, WIDTH * state + SORT, sort == SEND ? HEAR : SEND);
-                        setCell(turnedCells, WIDTH * state + OTHER, role);
-                    }
-                }
-                mirrored = new Part(onlyOther(), count, turnedCells);
+                mirrored = new Part(this);
             }
             return mirrored;
         }
 
+        /** The same part with the states as one that nothing tells apart; of a part that is no mirror. */
+        Part folded(Rows rows) {
+            if (fold == null) {
+                int[] classes = stateClasses(rows);
+                fold = rows.count < count ? foldedBy(classes, rows.count) : this;
+            }
+            return fold;
+        }
+
+        /** The class of each state: classes are parted by marks and next classes until they stay. */
+        private int[] stateClasses(Rows rows) {
+            int width = Integer.bitCount(kinds);
+            int[] classes = new int[count];
+            int[] finer = new int[count];
+            int[] probe = new int[width + 2];
+            int known = 0;
+            for (int round = 0; round <= count; round++) {
+                rows.start(width + 2, width + 2, count);
+                for (int state = 0; state < count; state++) {
+                    setCell(probe, 0, marks[state]);
+                    setCell(probe, 1, classes[state]);
+                    for (int column = 0; column < width; column++) {
+                        int next = cell(steps, width * state + column);
+                        setCell(probe, column + 2, cell(classes, next));
+                    }
+                    setCell(finer, state, rows.numberOf(probe));
+                }
+                int[] coarser = classes;
+                classes = finer;
+                finer = coarser;
+                if (rows.count == known) {
+                    break;
+                }
+                known = rows.count;
+            }
+            return classes;
+        }
+
+        private Part foldedBy(int[] classes, int classCount) {
+            int width = Integer.bitCount(kinds);
+            int[] classMarks = new int[classCount];
+            int[] classSteps = new int[classCount * width];
+            for (int state = 0; state < count; state++) {
+                int number = cell(classes, state);
+                setCell(classMarks, number, cell(marks, state));
+                for (int column = 0; column < width; column++) {
+                    int next = cell(steps, width * state + column);
+                    setCell(classSteps, width * number + column, cell(classes, next));
+                }
+            }
+            return new Part(role, kinds, classMarks, classSteps, first, placeMarks, placeSteps);
+        }
+
         boolean sameAs(Part that) {
             boolean same = that != null && that.role == role && that.count == count;
-            for (int i = 0; same && i < WIDTH * count; i++) {
-                same = cell(cells, i) == cell(that.cells, i);
+            for (int state = 0; same && state < count; state++) {
+                same = markAt(state) == that.markAt(state);
+                for (int kind = 0; kind < KINDS; kind++) {
+                    same = same && behind(state, kind) == that.behind(state, kind);
+                }
             }
             return same;
         }
@@ -814,8 +969,12 @@ public final class Handshakewarden {
             return changed;
         }
 
+        private Part partOf(int role) {
+            return role >= 0 && role < ROLES ? parts[role] : null;
+        }
+
         int tells(int role, int state, int what) {
-            Part part = role >= 0 && role < ROLES ? parts[role] : null;
+            Part part = partOf(role);
             return part == null ? NONE : part.tells(state, what);
         }
 
@@ -832,11 +991,12 @@ public final class Handshakewarden {
         }
 
         int behind(int role, int state, int kind) {
-            return kind >= 0 ? tells(role, state, Part.BEHIND + kind) : NONE;
+            Part part = partOf(role);
+            return part == null ? NONE : part.behind(state, kind);
         }
 
         int othersOf(int role) {
-            Part part = role >= 0 && role < ROLES ? parts[role] : null;
+            Part part = partOf(role);
             return part == null ? 0 : part.others;
         }
 
@@ -1033,22 +1193,32 @@ public final class Handshakewarden {
     /** Rows of numbers, each kept once by its key (its first cells), numbered as they come. */
     private static final class Rows {
         private static final int FIRST_ROOM = 64;
-        private static final int SPREAD = 0x9E3779B1;
+        private static final int MIXER = 0x9E3779B1;
 
         private int key;
         private int width;
         private int limit;
         private int count;
         private int[] cells = new int[FIRST_ROOM];
-        /** Numbers of rows, and 1, by their keys; 0 where none is. A power of two long. */
+        /** Numbers of rows, and 1, by their keys; 0 where none is. */
         private int[] heads = new int[FIRST_ROOM];
+        /** How many of the heads are in use: a power of two. */
+        private int spread;
 
         void start(int keyWidth, int rowWidth, int most) {
             key = keyWidth;
             width = rowWidth;
             limit = most;
             count = 0;
-            Arrays.fill(heads, 0);
+            clearHeads(FIRST_ROOM);
+        }
+
+        private void clearHeads(int length) {
+            spread = length;
+            heads = wider(heads, length);
+            for (int head = 0; head < length; head++) {
+                setCell(heads, head, 0);
+            }
         }
 
         /** The number of the row with the probe's key, kept now if none was; NONE if all is full. */
@@ -1063,13 +1233,11 @@ public final class Handshakewarden {
             if (count >= limit || head == NONE) {
                 return NONE;
             }
-            if (width * (count + 1) > cells.length) {
-                cells = wider(cells, width * (count + 1));
-            }
+            cells = wider(cells, width * (count + 1));
             System.arraycopy(probe, 0, cells, width * count, width);
             count++;
             setCell(heads, head, count);
-            if (2 * count > heads.length) {
+            if (2 * count > spread) {
                 widenHeads();
             }
             return count - 1;
@@ -1094,11 +1262,11 @@ public final class Handshakewarden {
             for (int column = 0; column < key; column++) {
                 hash = 31 * hash + row[from + column];
             }
-            hash *= SPREAD;
+            hash *= MIXER;
             hash ^= hash >>> 15;
-            for (int tries = 0; tries < heads.length; tries++) {
-                int head = (hash + tries) & (heads.length - 1);
-                int base = width * (heads[head] - 1);
+            for (int tries = 0; tries < spread; tries++) {
+                int head = (hash + tries) & (spread - 1);
+                int base = width * (cell(heads, head) - 1);
                 boolean same = base >= 0 && base + key <= cells.length;
                 for (int column = 0; same && column < key; column++) {
                     same = cells[base + column] == row[from + column];
@@ -1111,7 +1279,7 @@ public final class Handshakewarden {
         }
 
         private void widenHeads() {
-            heads = new int[2 * heads.length];
+            clearHeads(2 * spread);
             for (int number = 0; number < count; number++) {
                 setCell(heads, headOf(cells, width * number), number + 1);
             }
@@ -1448,7 +1616,15 @@ public final class Handshakewarden {
         private final int[] probe = new int[2];
         private final long[] reach = new long[PLACE_LIMIT];
         private final long[] shown = new long[PLACE_LIMIT];
-        private int[] cells = new int[Part.WIDTH * PLACE_LIMIT];
+        private final Part[] nobody = new Part[ROLES];
+        /** The marks and next states of the part that is cut, and what is behind its places. */
+        private int[] marks = new int[PLACE_LIMIT];
+        private int[] steps = new int[PLACE_LIMIT];
+        private final int[] placeMarks = new int[PLACE_LIMIT];
+        private final long[] placeSteps = new long[PLACE_LIMIT * KINDS];
+        /** All kinds of the role's LETTERs, and how many there are. */
+        private int kinds;
+        private int width;
         private Whole whole;
         private int role;
         private int count;
@@ -1460,6 +1636,12 @@ public final class Handshakewarden {
         private int clashFirst;
         private int clashSecond;
 
+        Cutter() {
+            for (int one = 0; one < ROLES; one++) {
+                nobody[one] = Part.justEnd(one);
+            }
+        }
+
         /** Cuts a whole for all roles, once; a cast is kept if it can be for each. */
         void cutAll(Whole asked) {
             if (asked.tried) {
@@ -1469,7 +1651,7 @@ public final class Handshakewarden {
             boolean all = true;
             for (int one = 0; one < ROLES; one++) {
                 boolean stands = hasBit(asked.standing, one);
-                Part found = stands ? partFor(asked, one) : Part.justEnd(one);
+                Part found = stands ? partFor(asked, one) : nobody[one];
                 asked.keepPart(one, found);
                 if (found == null && all) {
                     all = false;
@@ -1492,6 +1674,7 @@ public final class Handshakewarden {
             findReach();
             findEnds();
             findShown();
+            findSteps();
             sets.start(2, 2, STATE_LIMIT);
             sets.numberOf(probeOf(setAt(shown, 0)));
             for (int state = 0; state < sets.count && state < STATE_LIMIT; state++) {
@@ -1500,20 +1683,22 @@ public final class Handshakewarden {
                     return null;
                 }
             }
-            return new Part(role, sets.count, Arrays.copyOf(cells, Part.WIDTH * sets.count));
+            return new Part(role, kinds, Arrays.copyOf(marks, sets.count),
+                    Arrays.copyOf(steps, width * sets.count), setAt(shown, 0),
+                    Arrays.copyOf(placeMarks, count), Arrays.copyOf(placeSteps, width * count));
         }
 
         /** For each place, the places that can be come to from it, itself among them. */
         private void findReach() {
             for (int place = 0; place < count; place++) {
-                setSet(reach, place, bit(place));
+                putSet(reach, place, placeBit(place));
             }
             boolean grown = true;
             for (int round = 0; grown && round <= PLACE_LIMIT * PLACE_LIMIT; round++) {
                 grown = false;
                 for (int place = count - 1; place >= 0; place--) {
                     long before = setAt(reach, place);
-                    setSet(reach, place, before | nextSets(reach, place));
+                    putSet(reach, place, before | nextSets(reach, place));
                     grown = grown || setAt(reach, place) != before;
                 }
             }
@@ -1525,37 +1710,37 @@ public final class Handshakewarden {
             for (int place = 0; place < count; place++) {
                 boolean takesPart = whole.tells(place, Whole.FROM) == role
                         || whole.tells(place, Whole.TO) == role;
-                own |= takesPart ? bit(place) : 0;
-                trueEnds |= whole.tells(place, Whole.SORT) == END ? bit(place) : 0;
+                own |= takesPart ? placeBit(place) : 0;
+                trueEnds |= whole.tells(place, Whole.SORT) == END ? placeBit(place) : 0;
             }
             ends = trueEnds;
             for (int place = 0; place < count; place++) {
                 boolean beside = whole.tells(place, Whole.SORT) == BESIDE;
                 long wanted = beside ? own : own | trueEnds;
-                ends |= (setAt(reach, place) & wanted) == 0 ? bit(place) : 0;
+                ends |= (setAt(reach, place) & wanted) == 0 ? placeBit(place) : 0;
             }
-            end = lowest(ends);
+            end = lowestPlace(ends);
         }
 
         /** For each place, the places that are left of it behind the replacing. */
         private void findShown() {
             for (int place = 0; place < count; place++) {
-                long first = has(ends, place) ? bit(end) : 0;
-                setSet(shown, place, has(own, place) ? bit(place) : first);
+                long first = hasPlace(ends, place) ? placeBit(end) : 0;
+                putSet(shown, place, hasPlace(own, place) ? placeBit(place) : first);
             }
             boolean grown = true;
             for (int round = 0; grown && round <= PLACE_LIMIT * PLACE_LIMIT; round++) {
                 grown = false;
                 for (int place = count - 1; place >= 0; place--) {
                     long before = setAt(shown, place);
-                    setSet(shown, place, before | replaced(place));
+                    putSet(shown, place, before | replaced(place));
                     grown = grown || setAt(shown, place) != before;
                 }
             }
         }
 
         private long replaced(int place) {
-            if (has(ends | own, place)) {
+            if (hasPlace(ends | own, place)) {
                 return 0;
             }
             if (whole.tells(place, Whole.SORT) == BESIDE) {
@@ -1564,6 +1749,31 @@ public final class Handshakewarden {
                 return setAt(shown, standsLeft ? left : whole.behind(place, 1));
             }
             return nextSets(shown, place);
+        }
+
+        /** For each of the role's LETTERs, its mark and the places that are left of the next ones. */
+        private void findSteps() {
+            kinds = 0;
+            for (int place = 0; place < count; place++) {
+                kinds |= hasPlace(own, place) ? whole.tells(place, Whole.KIND_SET) : 0;
+            }
+            width = Integer.bitCount(kinds);
+            for (int place = 0; place < count; place++) {
+                boolean takesPart = hasPlace(own, place);
+                setCell(placeMarks, place, takesPart ? markOf(place) : Part.markOf(END, NONE, 0));
+                for (int kind = 0; kind < KINDS; kind++) {
+                    if (hasBit(kinds, kind)) {
+                        int next = takesPart ? whole.behind(place, kind) : NONE;
+                        putSet(placeSteps, width * place + columnOf(kinds, kind), setAt(shown, next));
+                    }
+                }
+            }
+        }
+
+        private int markOf(int place) {
+            boolean sends = whole.tells(place, Whole.FROM) == role;
+            int other = whole.tells(place, sends ? Whole.TO : Whole.FROM);
+            return Part.markOf(sends ? SEND : HEAR, other, whole.tells(place, Whole.KIND_SET));
         }
 
         private long nextSets(long[] sets, int place) {
@@ -1576,9 +1786,9 @@ public final class Handshakewarden {
 
         /** Keeps the first pair of the set that does not go together, if there is one. */
         private boolean goTogether(long set) {
-            int first = lowest(set);
+            int first = lowestPlace(set);
             for (int place = first + 1; place < count; place++) {
-                if (has(set, place) && !goTogether(first, place)) {
+                if (hasPlace(set, place) && !goTogether(first, place)) {
                     clashFirst = first;
                     clashSecond = place;
                     return false;
@@ -1600,38 +1810,33 @@ public final class Handshakewarden {
 
         /** Writes the state of a set whose places go together; false if there is no room. */
         private boolean makeState(int state, long set) {
-            int base = Part.WIDTH * state;
-            if (base + Part.WIDTH > cells.length) {
-                cells = wider(cells, base + Part.WIDTH);
+            marks = wider(marks, state + 1);
+            steps = wider(steps, width * (state + 1));
+            int all = 0;
+            for (int column = 0; column < width; column++) {
+                setCell(steps, width * state + column, NONE);
             }
-            Part.clearState(cells, state);
-            int place = lowest(set);
-            if (place == end) {
-                return true;
-            }
-            boolean sends = whole.tells(place, Whole.FROM) == role;
-            setCell(cells, base + Part.SORT, sends ? SEND : HEAR);
-            setCell(cells, base + Part.OTHER, whole.tells(place, sends ? Whole.TO : Whole.FROM));
-            int kinds = 0;
             for (int kind = 0; kind < KINDS; kind++) {
-                long behind = behindAll(set, kind);
+                long behind = hasBit(kinds, kind) ? behindAll(set, kind) : 0;
                 if (behind != 0) {
-                    kinds |= 1 << kind;
+                    all |= 1 << kind;
                     int number = sets.numberOf(probeOf(behind));
                     if (number == NONE) {
                         return false;
                     }
-                    setCell(cells, base + Part.BEHIND + kind, number);
+                    setCell(steps, width * state + columnOf(kinds, kind), number);
                 }
             }
-            setCell(cells, base + Part.KIND_SET, kinds);
+            int mark = cell(placeMarks, lowestPlace(set));
+            setCell(marks, state, Part.markOf(Part.sortIn(mark), Part.otherIn(mark), all));
             return true;
         }
 
         private long behindAll(long set, int kind) {
             long together = 0;
+            int column = columnOf(kinds, kind);
             for (int place = 0; place < count; place++) {
-                together |= has(set, place) ? setAt(shown, whole.behind(place, kind)) : 0;
+                together |= hasPlace(set, place) ? setAt(placeSteps, width * place + column) : 0;
             }
             return together;
         }
@@ -1645,124 +1850,232 @@ public final class Handshakewarden {
         private static long pair(int low, int high) {
             return ((long) high << 32) | (low & 0xFFFFFFFFL);
         }
-
-        private static long bit(int place) {
-            return place >= 0 && place < PLACE_LIMIT ? 1L << place : 0;
-        }
-
-        private static boolean has(long set, int place) {
-            return (set & bit(place)) != 0;
-        }
-
-        private static int lowest(long set) {
-            int place = 0;
-            while (place < PLACE_LIMIT && !has(set, place)) {
-                place++;
-            }
-            return place;
-        }
-
-        private static long setAt(long[] sets, int place) {
-            return place >= 0 && place < sets.length ? sets[place] : 0;
-        }
-
-        private static void setSet(long[] sets, int place, long set) {
-            if (place >= 0 && place < sets.length) {
-                sets[place] = set;
-            }
-        }
     }
 
-    /** Holds two parts, or two wholes, against one another, pair by pair of what is come to. */
+    /**
+     * Holds two parts, or two wholes, against one another. Parts are held step by step: one state of the
+     * lower part, with all that the same row of kinds leads to in the higher one.
+     */
     private static final class Comparer {
-        private static final int BEFORE = 2;
-        private static final int BY = 3;
-        private static final int WIDTH = 4;
+        /** How many kinds of the row that shows one search keeps: four bits for each in a long. */
+        private static final int KEPT = 16;
+        private static final int FIRST_ROOM = 64;
+        private static final int DEEPEST = 1 << 30;
 
-        private final Rows pairs = new Rows();
-        private final int[] probe = new int[WIDTH];
-        /** The pair that shows that the part is not below; NONE if there is none. */
-        private int found;
+        private final Rows rows = new Rows();
+        private final int[] probe = new int[1];
 
-        boolean below(Part one, Part two) {
-            found = NONE;
-            if (one.role != two.role) {
-                return false;
-            }
-            start();
-            for (int pair = 0; pair < pairs.count && pair < PAIR_LIMIT; pair++) {
-                int state = pairs.at(pair, 0);
-                int other = pairs.at(pair, 1);
-                if (!mayBeBelow(one, state, two, other)) {
-                    found = pair;
-                    return false;
-                }
-                for (int kind = 0; kind < KINDS; kind++) {
-                    add(one.behind(state, kind), two.behind(other, kind), pair, kind);
-                }
-            }
-            return true;
+        /** The parts that were held last, how long the row is that shows, and its kinds from a place on. */
+        private Part one;
+        private Part two;
+        private int length;
+        private int from;
+        private long kept;
+
+        private Part low;
+        private Part high;
+        /** Whether sets of places of the higher part are looked at, or its states, one each. */
+        private boolean byPlaces;
+        private long[] seen = new long[FIRST_ROOM];
+        private int seenWords;
+
+        /** What is come to by rows of one length, in their order, and by those that are longer by one. */
+        private int size;
+        private int[] states = new int[FIRST_ROOM];
+        private long[] points = new long[FIRST_ROOM];
+        private long[] labels = new long[FIRST_ROOM];
+        private int nextSize;
+        private int[] nextStates = new int[FIRST_ROOM];
+        private long[] nextPoints = new long[FIRST_ROOM];
+        private long[] nextLabels = new long[FIRST_ROOM];
+
+        boolean below(Part asked, Part other) {
+            return asked.role == other.role && rowLength(asked, other) == NONE;
         }
 
-        private static boolean mayBeBelow(Part one, int state, Part two, int other) {
-            int sort = one.tells(state, Part.SORT);
-            int kinds = one.tells(state, Part.KIND_SET);
-            int otherKinds = two.tells(other, Part.KIND_SET);
-            if (sort != two.tells(other, Part.SORT)
-                    || one.tells(state, Part.OTHER) != two.tells(other, Part.OTHER)) {
-                return false;
-            }
-            return sort == SEND ? (kinds & ~otherKinds) == 0 : (otherKinds & ~kinds) == 0;
-        }
-
-        /** The length of the row that shows what below() found last. */
-        int rowLength() {
-            int length = NONE;
-            for (int pair = found; pair != NONE && length < PAIR_LIMIT; length++) {
-                pair = pairs.at(pair, BEFORE);
+        /** How long the row is that shows that a part is not below another one; NONE if there is none. */
+        int rowLength(Part asked, Part other) {
+            if (asked != one || other != two) {
+                one = asked;
+                two = other;
+                hold(0);
             }
             return length;
         }
 
+        /** A kind of the row that the last call of rowLength() found. */
         int rowKind(int place) {
-            int pair = found;
-            for (int steps = rowLength() - 1; steps > place; steps--) {
-                pair = pairs.at(pair, BEFORE);
+            int chunk = place - place % KEPT;
+            if (chunk != from) {
+                hold(chunk);
             }
-            return pairs.at(pair, BY);
+            return (int) (kept >>> (4 * (place - from))) & 15;
         }
 
-        boolean alike(Whole one, Whole two) {
-            start();
-            for (int pair = 0; pair < pairs.count && pair < PAIR_LIMIT; pair++) {
-                int place = pairs.at(pair, 0);
-                int other = pairs.at(pair, 1);
+        private void hold(int start) {
+            from = start;
+            kept = 0;
+            length = NONE;
+            if (one.role != two.role) {
+                return;
+            }
+            if (one.turned && two.turned && one.turned().role != two.turned().role) {
+                length = 0;
+                return;
+            }
+            choose();
+            search();
+        }
+
+        /**
+         * Of a part that is cut, and no mirror, each place of a set may be looked at alone: all that SEND
+         * have the same kinds, and a kind of one that HEARs is one of the set. Two mirrors change sides.
+         */
+        private void choose() {
+            byPlaces = one.turned || !two.turned;
+            if (!two.turned) {
+                low = one;
+                high = two;
+            } else if (one.turned) {
+                low = two.turned();
+                high = one.turned();
+            } else {
+                low = one.folded(rows);
+                high = two.turned().folded(rows).turned();
+            }
+        }
+
+        private void search() {
+            for (int word = 0; word < seenWords; word++) {
+                putSet(seen, word, 0L);
+            }
+            seenWords = 0;
+            nextSize = 0;
+            keep(0, byPlaces ? high.first : 0, 0L);
+            for (int depth = 0; nextSize > 0 && depth < DEEPEST; depth++) {
+                swapLevels();
+                if (isShownBy(depth)) {
+                    length = depth;
+                    return;
+                }
+            }
+        }
+
+        private void swapLevels() {
+            int[] spareStates = states;
+            long[] sparePoints = points;
+            long[] spareLabels = labels;
+            states = nextStates;
+            points = nextPoints;
+            labels = nextLabels;
+            size = nextSize;
+            nextStates = spareStates;
+            nextPoints = sparePoints;
+            nextLabels = spareLabels;
+            nextSize = 0;
+        }
+
+        /** Whether a row of this length shows; if none does, the longer ones are come to. */
+        private boolean isShownBy(int depth) {
+            for (int i = 0; i < size; i++) {
+                if (cannotBe(cell(states, i), setAt(points, i))) {
+                    kept = setAt(labels, i);
+                    return true;
+                }
+                goOn(i, depth);
+            }
+            return false;
+        }
+
+        private boolean cannotBe(int state, long point) {
+            int mark = low.markAt(state);
+            if (!byPlaces) {
+                return !mayBeBelow(mark, high.markAt((int) point));
+            }
+            boolean right = true;
+            for (int place = 0; right && place < high.placeMarks.length; place++) {
+                right = !hasPlace(point, place) || mayBeBelow(mark, high.placeMarks[place]);
+            }
+            return !right;
+        }
+
+        private static boolean mayBeBelow(int mark, int other) {
+            int kinds = Part.kindsIn(mark);
+            int otherKinds = Part.kindsIn(other);
+            if (Part.sortIn(mark) != Part.sortIn(other) || Part.otherIn(mark) != Part.otherIn(other)) {
+                return false;
+            }
+            return Part.sortIn(mark) == SEND ? (kinds & ~otherKinds) == 0 : (otherKinds & ~kinds) == 0;
+        }
+
+        private void goOn(int entry, int depth) {
+            int state = cell(states, entry);
+            long point = setAt(points, entry);
+            long label = setAt(labels, entry);
+            for (int kind = 0; kind < KINDS; kind++) {
+                int next = low.behind(state, kind);
+                boolean labelled = depth >= from && depth < from + KEPT;
+                long added = labelled ? (long) kind << (4 * (depth - from)) : 0;
+                if (next != NONE && byPlaces) {
+                    keep(next, high.placesBehind(point, kind), label | added);
+                } else if (next != NONE && high.behind((int) point, kind) != NONE) {
+                    keep(next, high.behind((int) point, kind), label | added);
+                }
+            }
+        }
+
+        /** Keeps what was not come to before: of places that may be some of them. */
+        private void keep(int state, long point, long label) {
+            long fresh = byPlaces ? unseen(state, point) : point;
+            long pair = (long) state * high.count + point;
+            if (byPlaces ? fresh == 0 : unseen(pair / 64, 1L << (pair % 64)) == 0) {
+                return;
+            }
+            nextStates = wider(nextStates, nextSize + 1);
+            nextPoints = wider(nextPoints, nextSize + 1);
+            nextLabels = wider(nextLabels, nextSize + 1);
+            setCell(nextStates, nextSize, state);
+            putSet(nextPoints, nextSize, fresh);
+            putSet(nextLabels, nextSize, label);
+            nextSize++;
+        }
+
+        /** Which bits of a word were not seen before; now they are. */
+        private long unseen(long word, long bits) {
+            if (word >= SEEN_LIMIT) {
+                return 0;
+            }
+            int index = (int) word;
+            seen = wider(seen, index + 1);
+            seenWords = Math.max(seenWords, index + 1);
+            long fresh = bits & ~setAt(seen, index);
+            putSet(seen, index, setAt(seen, index) | bits);
+            return fresh;
+        }
+
+        boolean alike(Whole whole, Whole other) {
+            rows.start(1, 1, PLACE_LIMIT * PLACE_LIMIT);
+            addPlaces(0, 0);
+            for (int pair = 0; pair < rows.count && pair < PLACE_LIMIT * PLACE_LIMIT; pair++) {
+                int place = rows.at(pair, 0) / PLACE_LIMIT;
+                int otherPlace = rows.at(pair, 0) % PLACE_LIMIT;
                 for (int what = 0; what < Whole.BEHIND; what++) {
-                    if (one.tells(place, what) != two.tells(other, what)) {
+                    if (whole.tells(place, what) != other.tells(otherPlace, what)) {
                         return false;
                     }
                 }
                 for (int kind = 0; kind < KINDS; kind++) {
-                    add(one.behind(place, kind), two.behind(other, kind), pair, kind);
+                    addPlaces(whole.behind(place, kind), other.behind(otherPlace, kind));
                 }
             }
             return true;
         }
 
-        private void start() {
-            pairs.start(2, WIDTH, PAIR_LIMIT);
-            add(0, 0, NONE, NONE);
-        }
-
-        private void add(int one, int two, int before, int by) {
-            if (one == NONE || two == NONE) {
-                return;
+        private void addPlaces(int place, int other) {
+            if (place != NONE && other != NONE) {
+                setCell(probe, 0, PLACE_LIMIT * place + other);
+                rows.numberOf(probe);
             }
-            setCell(probe, 0, one);
-            setCell(probe, 1, two);
-            setCell(probe, BEFORE, before);
-            setCell(probe, BY, by);
-            pairs.numberOf(probe);
         }
     }
 
@@ -1919,14 +2232,14 @@ public final class Handshakewarden {
         private final int[] cells = new int[Whole.WIDTH * WOVEN_LIMIT];
 
         long countRows(Cast cast, int length) {
-            startWith(PAIR_LIMIT);
+            startWith(MEETING_LIMIT);
             Arrays.fill(nextWays, 0L);
             addWays(0, 1L);
-            for (int letters = 0; letters < length; letters++) {
+            for (int letters = 1; letters < length; letters++) {
                 swapWays();
                 goOn(cast);
             }
-            return together();
+            return length == 0 ? 1 : lastWays(cast);
         }
 
         private void swapWays() {
@@ -1940,7 +2253,7 @@ public final class Handshakewarden {
         private void goOn(Cast cast) {
             int known = seen.count;
             for (int number = 0; number < known; number++) {
-                long many = number < ways.length ? ways[number] : 0;
+                long many = setAt(ways, number);
                 seen.copyRow(number, now);
                 for (int role = 0; many > 0 && role < ROLES; role++) {
                     if (cast.meets(role, now)) {
@@ -1976,18 +2289,23 @@ public final class Handshakewarden {
         }
 
         private void addWays(int number, long many) {
-            if (number >= nextWays.length) {
-                nextWays = Arrays.copyOf(nextWays, Math.max(number + 1, 2 * nextWays.length));
-            }
+            nextWays = wider(nextWays, number + 1);
             if (number >= 0 && number < nextWays.length) {
                 nextWays[number] += many;
             }
         }
 
-        private long together() {
+        /** The ways that one letter more gives; where they lead is not asked any more. */
+        private long lastWays(Cast cast) {
             long sum = 0;
-            for (int number = 0; number < nextWays.length; number++) {
-                sum += nextWays[number];
+            for (int number = 0; number < seen.count; number++) {
+                long many = setAt(nextWays, number);
+                seen.copyRow(number, now);
+                for (int role = 0; many > 0 && role < ROLES; role++) {
+                    if (cast.meets(role, now)) {
+                        sum += many * Integer.bitCount(commonKinds(cast, role));
+                    }
+                }
             }
             return sum;
         }
