@@ -787,13 +787,19 @@ public final class Handshakewarden {
             others = found;
         }
 
-        /** The mirror of a part that has just one other role; all but the roles and sorts is the same. */
+        /** The mirror of a part that has just one other role; all but the marks is the same. */
         private Part(Part that) {
             role = that.onlyOther();
             count = that.count;
             kinds = that.kinds;
             others = 1 << that.role;
-            marks = that.marks;
+            marks = new int[that.marks.length];
+            for (int state = 0; state < marks.length; state++) {
+                int mark = that.markAt(state);
+                boolean sends = sortIn(mark) == SEND;
+                marks[state] = sortIn(mark) == END ? mark
+                        : markOf(sends ? HEAR : SEND, that.role, kindsIn(mark));
+            }
             steps = that.steps;
             first = that.first;
             placeMarks = that.placeMarks;
@@ -807,6 +813,7 @@ public final class Handshakewarden {
             return new Part(role, 0, mark, new int[0], 1L, mark, new long[0]);
         }
 
+        /** A mark has the sort in its lowest four bits, then the other role and 1, then the kinds. */
         static int markOf(int sort, int other, int kinds) {
             return kinds << 8 | (other + 1) << 4 | sort;
         }
@@ -823,24 +830,19 @@ public final class Handshakewarden {
             return mark >>> 8;
         }
 
-        /** The mark of a state that is there. */
         int markAt(int state) {
-            int mark = cell(marks, state);
-            if (!turned || sortIn(mark) == END) {
-                return mark;
-            }
-            return markOf(sortIn(mark) == SEND ? HEAR : SEND, onlyOther(), kindsIn(mark));
+            return state >= 0 && state < marks.length ? marks[state] : NONE;
         }
 
         int tells(int state, int what) {
-            if (state < 0 || state >= count) {
+            if (state < 0 || state >= marks.length) {
                 return NONE;
             }
-            int mark = markAt(state);
+            int mark = marks[state];
             if (what == SORT) {
-                return sortIn(mark);
+                return mark & 15;
             }
-            return what == OTHER ? otherIn(mark) : kindsIn(mark);
+            return what == OTHER ? ((mark >>> 4) & 15) - 1 : mark >>> 8;
         }
 
         int behind(int state, int kind) {
@@ -1215,9 +1217,11 @@ public final class Handshakewarden {
 
         private void clearHeads(int length) {
             spread = length;
-            heads = wider(heads, length);
-            for (int head = 0; head < length; head++) {
-                setCell(heads, head, 0);
+            if (length > heads.length) {
+                heads = new int[length];
+            }
+            for (int head = 0; head < length && head < heads.length; head++) {
+                heads[head] = 0;
             }
         }
 
@@ -1255,7 +1259,7 @@ public final class Handshakewarden {
 
         /** Where the key that begins at a place of a row stands in the heads, or would stand. */
         private int headOf(int[] row, int from) {
-            if (from < 0 || from + key > row.length) {
+            if (from < 0 || from + key > row.length || spread > heads.length) {
                 return NONE;
             }
             int hash = 17;
@@ -1266,7 +1270,7 @@ public final class Handshakewarden {
             hash ^= hash >>> 15;
             for (int tries = 0; tries < spread; tries++) {
                 int head = (hash + tries) & (spread - 1);
-                int base = width * (cell(heads, head) - 1);
+                int base = width * (heads[head] - 1);
                 boolean same = base >= 0 && base + key <= cells.length;
                 for (int column = 0; same && column < key; column++) {
                     same = cells[base + column] == row[from + column];
@@ -1890,74 +1894,79 @@ public final class Handshakewarden {
         private long[] nextLabels = new long[FIRST_ROOM];
 
         boolean below(Part asked, Part other) {
-            return asked.role == other.role && rowLength(asked, other) == NONE;
+            hold(asked, other, NONE);
+            return asked.role == other.role && length == NONE;
         }
 
         /** How long the row is that shows that a part is not below another one; NONE if there is none. */
         int rowLength(Part asked, Part other) {
-            if (asked != one || other != two) {
-                one = asked;
-                two = other;
-                hold(0);
-            }
+            hold(asked, other, NONE);
             return length;
         }
 
         /** A kind of the row that the last call of rowLength() found. */
         int rowKind(int place) {
-            int chunk = place - place % KEPT;
-            if (chunk != from) {
-                hold(chunk);
-            }
+            hold(one, two, place - place % KEPT);
             return (int) (kept >>> (4 * (place - from))) & 15;
         }
 
-        private void hold(int start) {
-            from = start;
-            kept = 0;
-            length = NONE;
-            if (one.role != two.role) {
+        /**
+         * Finds the row that shows, and keeps its kinds from a place on (NONE is any place). Of a part that
+         * is cut, and no mirror, each place of a set may be looked at alone: all that SEND have the same
+         * kinds, and a kind of one that HEARs is one of the set. Two mirrors change sides.
+         */
+        private void hold(Part asked, Part other, int start) {
+            if (asked == one && other == two && (start == NONE || start == from)) {
                 return;
             }
-            if (one.turned && two.turned && one.turned().role != two.turned().role) {
+            one = asked;
+            two = other;
+            from = Math.max(start, 0);
+            kept = 0;
+            length = NONE;
+            if (asked == null || other == null || asked.role != other.role) {
+                return;
+            }
+            byPlaces = asked.turned || !other.turned;
+            if (!other.turned) {
+                low = asked;
+                high = other;
+            } else if (asked.turned) {
+                low = other.turned();
+                high = asked.turned();
+            } else {
+                low = asked.folded(rows);
+                high = other.turned().folded(rows).turned();
+            }
+            if (low.role != high.role) {
                 length = 0;
                 return;
             }
-            choose();
-            search();
-        }
-
-        /**
-         * Of a part that is cut, and no mirror, each place of a set may be looked at alone: all that SEND
-         * have the same kinds, and a kind of one that HEARs is one of the set. Two mirrors change sides.
-         */
-        private void choose() {
-            byPlaces = one.turned || !two.turned;
-            if (!two.turned) {
-                low = one;
-                high = two;
-            } else if (one.turned) {
-                low = two.turned();
-                high = one.turned();
-            } else {
-                low = one.folded(rows);
-                high = two.turned().folded(rows).turned();
+            startSearch();
+            for (int depth = 0; nextSize > 0 && length == NONE && depth < DEEPEST; depth++) {
+                goOnFrom(depth);
             }
         }
 
-        private void search() {
+        private void startSearch() {
             for (int word = 0; word < seenWords; word++) {
                 putSet(seen, word, 0L);
             }
             seenWords = 0;
             nextSize = 0;
             keep(0, byPlaces ? high.first : 0, 0L);
-            for (int depth = 0; nextSize > 0 && depth < DEEPEST; depth++) {
-                swapLevels();
-                if (isShownBy(depth)) {
+        }
+
+        /** Looks at the rows of one length: whether one shows, otherwise what those behind them lead to. */
+        private void goOnFrom(int depth) {
+            swapLevels();
+            for (int entry = 0; entry < size; entry++) {
+                if (cannotBe(cell(states, entry), setAt(points, entry))) {
+                    kept = setAt(labels, entry);
                     length = depth;
                     return;
                 }
+                goOn(entry, depth);
             }
         }
 
@@ -1973,18 +1982,6 @@ public final class Handshakewarden {
             nextPoints = sparePoints;
             nextLabels = spareLabels;
             nextSize = 0;
-        }
-
-        /** Whether a row of this length shows; if none does, the longer ones are come to. */
-        private boolean isShownBy(int depth) {
-            for (int i = 0; i < size; i++) {
-                if (cannotBe(cell(states, i), setAt(points, i))) {
-                    kept = setAt(labels, i);
-                    return true;
-                }
-                goOn(i, depth);
-            }
-            return false;
         }
 
         private boolean cannotBe(int state, long point) {

@@ -398,7 +398,9 @@ final class Model {
             }
             TreeSet<Integer> ends = ends(role);
             List<TreeSet<Integer>> sets = new ArrayList<>();
+            Map<TreeSet<Integer>, Integer> numbers = new HashMap<>();
             sets.add(replaced(new TreeSet<>(Set.of(0)), role, ends));
+            numbers.put(sets.get(0), 0);
             for (int i = 0; i < sets.size(); i++) {
                 TreeSet<Integer> set = sets.get(i);
                 for (int one : set) {
@@ -426,10 +428,10 @@ final class Model {
                     }
                     if (!next.isEmpty()) {
                         TreeSet<Integer> behind = replaced(next, role, ends);
-                        if (!sets.contains(behind)) {
+                        if (numbers.putIfAbsent(behind, sets.size()) == null) {
                             sets.add(behind);
                         }
-                        state.next.put(kind, sets.indexOf(behind));
+                        state.next.put(kind, numbers.get(behind));
                     }
                 }
             }
@@ -482,31 +484,38 @@ final class Model {
         };
     }
 
+    /** Two states that a row of kinds leads to: the last kind, and what the row ahead of it leads to. */
+    record Pair(int one, int two, Pair before, int kind) {
+        List<Integer> row() {
+            ArrayDeque<Integer> row = new ArrayDeque<>();
+            for (Pair pair = this; pair.before != null; pair = pair.before) {
+                row.addFirst(pair.kind);
+            }
+            return new ArrayList<>(row);
+        }
+    }
+
     /** The shortest row, the first by kinds, that shows that a part is not below; null if it is. */
     static List<Integer> shown(Part one, Part two) {
-        Map<List<Integer>, List<Integer>> level = new LinkedHashMap<>();
-        level.put(List.of(), List.of(0, 0));
-        Set<List<Integer>> met = new HashSet<>();
-        while (!level.isEmpty()) {
-            Map<List<Integer>, List<Integer>> following = new LinkedHashMap<>();
-            for (Map.Entry<List<Integer>, List<Integer>> entry : level.entrySet()) {
-                State s = one.states().get(entry.getValue().get(0));
-                State t = two.states().get(entry.getValue().get(1));
-                if (!canBeBelow(s, t)) {
-                    return entry.getKey();
-                }
-                if (!met.add(entry.getValue())) {
-                    continue;
-                }
-                for (int kind = 0; kind <= 9; kind++) {
-                    if (s.next.containsKey(kind) && t.next.containsKey(kind)) {
-                        List<Integer> row = new ArrayList<>(entry.getKey());
-                        row.add(kind);
-                        following.put(row, List.of(s.next.get(kind), t.next.get(kind)));
+        ArrayDeque<Pair> open = new ArrayDeque<>();
+        Set<Long> met = new HashSet<>();
+        met.add(0L);
+        open.add(new Pair(0, 0, null, NONE));
+        while (!open.isEmpty()) {
+            Pair pair = open.poll();
+            State s = one.states().get(pair.one);
+            State t = two.states().get(pair.two);
+            if (!canBeBelow(s, t)) {
+                return pair.row();
+            }
+            for (int kind = 0; kind <= 9; kind++) {
+                if (s.next.containsKey(kind) && t.next.containsKey(kind)) {
+                    Pair behind = new Pair(s.next.get(kind), t.next.get(kind), pair, kind);
+                    if (met.add((long) behind.one << 32 | behind.two)) {
+                        open.add(behind);
                     }
                 }
             }
-            level = following;
         }
         return null;
     }

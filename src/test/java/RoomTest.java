@@ -16,10 +16,17 @@ public final class RoomTest {
         fits("weaving and counting", RoomTest::weave);
         fits("parts and images", RoomTest::parts);
         fits("texts with errors", RoomTest::errors);
+        fits("parts held that are far apart", RoomTest::farApart);
+        fits("a part of each sort held against very many states", RoomTest::evenAndMany);
+        fits("very many states again and again", RoomTest::manyStates, 2 * ROOM);
         Check.end("RoomTest");
     }
 
     private static void fits(String name, Runnable run) {
+        fits(name, run, ROOM);
+    }
+
+    private static void fits(String name, Runnable run, long room) {
         run.run();
         com.sun.management.ThreadMXBean threads =
                 (com.sun.management.ThreadMXBean) ManagementFactory.getThreadMXBean();
@@ -27,7 +34,7 @@ public final class RoomTest {
         run.run();
         long made = threads.getCurrentThreadAllocatedBytes() - before;
         System.out.println(name + ": " + made + " bytes");
-        Check.due(name + " fits in its room", true, made < ROOM);
+        Check.due(name + " fits in its room", true, made < room);
     }
 
     private static void newObjects() {
@@ -94,6 +101,62 @@ public final class RoomTest {
             Check.write(hall, "((((((((a>b{");
             Check.outcome(() -> hall.read(0));
             hall.errorPosition();
+        }
+    }
+
+    /** Reads a text by as few calls as can be. */
+    private static void readWide(Handshakewarden hall, int whole, String text) {
+        for (int at = 0; at < text.length(); at += 20) {
+            hall.append(word(text, at), word(text, at + 4), word(text, at + 8), word(text, at + 12), word(text, at + 16));
+        }
+        hall.read(whole);
+    }
+
+    private static int word(String text, int at) {
+        int word = 0;
+        for (int i = at; i < at + 4; i++) {
+            word = word << 8 | (i < text.length() ? text.charAt(i) : 0);
+        }
+        return word;
+    }
+
+    private static void farApart() {
+        Handshakewarden hall = new Handshakewarden();
+        for (int i = 0; i < FarTest.TEXTS.length; i++) {
+            readWide(hall, 0, FarTest.TEXTS[i][0]);
+            readWide(hall, 1, FarTest.TEXTS[i][1]);
+            hall.part(0, 3, 0);
+            hall.part(1, FarTest.DUE[i][0], 1);
+            hall.mirror(1, 2);
+            hall.mirror(0, 3);
+            for (int j = 0; j < 16; j++) {
+                hall.shows(j / 4, j % 4);
+            }
+        }
+    }
+
+    private static void evenAndMany() {
+        Handshakewarden hall = new Handshakewarden();
+        readWide(hall, 0, FarTest.EVEN);
+        readWide(hall, 1, FarTest.MANY);
+        hall.part(0, 2, 0);
+        hall.part(0, 3, 1);
+        hall.part(1, 3, 2);
+        for (int call = 40; call + 6 <= 512; call += 6) {
+            hall.fit(call % 3, (call + 1) % 3);
+            hall.isBelow(call % 3, call / 3 % 3);
+            hall.mirror(call / 3 % 3, 3 + call % 4);
+            hall.isBelow(3 + call % 4, call % 3);
+            hall.shows(call % 3, 3 + call / 4 % 4);
+            hall.errors();
+        }
+    }
+
+    private static void manyStates() {
+        Handshakewarden hall = new Handshakewarden();
+        for (int call = 0; call + 14 <= 512; call += 14) {
+            readWide(hall, 0, FarTest.MANY);
+            hall.part(0, 3, call / 14 % 8);
         }
     }
 }
