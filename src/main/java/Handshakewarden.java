@@ -765,7 +765,7 @@ public final class Handshakewarden {
         private final long first;
         private final int[] placeMarks;
         private final long[] placeSteps;
-        private final boolean turned;
+        private final boolean isMirror;
         private Part mirrored;
         private Part fold;
 
@@ -778,7 +778,7 @@ public final class Handshakewarden {
             this.first = first;
             this.placeMarks = placeMarks;
             this.placeSteps = placeSteps;
-            turned = false;
+            isMirror = false;
             int found = 0;
             for (int state = 0; state < marks.length; state++) {
                 int other = otherIn(marks[state]);
@@ -804,7 +804,7 @@ public final class Handshakewarden {
             first = that.first;
             placeMarks = that.placeMarks;
             placeSteps = that.placeSteps;
-            turned = !that.turned;
+            isMirror = !that.isMirror;
             mirrored = that;
         }
 
@@ -1927,11 +1927,11 @@ public final class Handshakewarden {
             if (asked == null || other == null || asked.role != other.role) {
                 return;
             }
-            byPlaces = asked.turned || !other.turned;
-            if (!other.turned) {
+            byPlaces = asked.isMirror || !other.isMirror;
+            if (!other.isMirror) {
                 low = asked;
                 high = other;
-            } else if (asked.turned) {
+            } else if (asked.isMirror) {
                 low = other.turned();
                 high = asked.turned();
             } else {
@@ -2021,7 +2021,7 @@ public final class Handshakewarden {
             }
         }
 
-        /** Keeps what was not come to before: of places that may be some of them. */
+        /** Keeps what was not come to before; of places, those that did not come with this state. */
         private void keep(int state, long point, long label) {
             long fresh = byPlaces ? unseen(state, point) : point;
             long pair = (long) state * high.count + point;
