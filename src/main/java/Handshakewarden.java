@@ -100,7 +100,7 @@ public final class Handshakewarden {
         if (found == null) {
             throw new IllegalArgumentException("the text has an error");
         }
-        hall.keepWhole(whole, found);
+        keepWhole(whole, found);
         return found.count;
     }
 
@@ -370,7 +370,7 @@ public final class Handshakewarden {
         if (woven == null) {
             return NONE;
         }
-        hall.keepWhole(whole, woven);
+        keepWhole(whole, woven);
         return woven.count;
     }
 
@@ -531,6 +531,19 @@ public final class Handshakewarden {
         checkRange(from, ROLES);
         checkRange(to, ROLES);
         return cell(hall.queues, queueNumber(from, to));
+    }
+
+    /** Parts that nobody has any more, now that a whole is replaced, let go of their room. */
+    private void keepWhole(int whole, Whole found) {
+        hall.keepWhole(whole, found);
+        cutter.letGo();
+        hall.holdParts();
+        for (int image = 0; image < IMAGES; image++) {
+            Hall copy = imageAt(image);
+            if (copy != null) {
+                copy.holdParts();
+            }
+        }
     }
 
     private Hall imageAt(int image) {
@@ -743,10 +756,18 @@ public final class Handshakewarden {
                 parts[role] = part;
             }
         }
+
+        void holdParts() {
+            for (int role = 0; role < parts.length; role++) {
+                if (parts[role] != null) {
+                    parts[role].hold();
+                }
+            }
+        }
     }
 
     /**
-     * A part of a role: a mark for each state (sort, other role and kinds), and its next states, a column
+     * A part of a role: a row of cells for each state, its mark (sort, other role and kinds) and a next state
      * for each kind of the part. It knows the places of its whole, too, of which its states are sets.
      */
     private static final class Part {
@@ -756,32 +777,37 @@ public final class Handshakewarden {
 
         private final int role;
         private final int count;
-        /** All kinds that come in the part. */
+        /** All kinds that come in the part, and how many cells each state has. */
         private final int kinds;
+        private final int width;
         private final int others;
-        private final int[] marks;
-        private final int[] steps;
+        /** There may be more cells than states need: the room was another part's before. */
+        private final int[] cells;
         /** The set of places of the first state; the marks of places, and the sets that are behind them. */
         private final long first;
         private final int[] placeMarks;
         private final long[] placeSteps;
+        /** A mirror has the cells of the part that it mirrors, and tells them the other way round. */
         private final boolean isMirror;
+        private final int mirroredRole;
         private Part mirrored;
-        private Part fold;
+        /** Whether somebody had the part when that was looked at last. */
+        private boolean held = true;
 
-        Part(int role, int kinds, int[] marks, int[] steps, long first, int[] placeMarks, long[] placeSteps) {
+        Part(int role, int kinds, int count, int[] cells, long first, int[] placeMarks, long[] placeSteps) {
             this.role = role;
-            this.count = marks.length;
+            this.count = count;
             this.kinds = kinds;
-            this.marks = marks;
-            this.steps = steps;
+            this.cells = cells;
             this.first = first;
             this.placeMarks = placeMarks;
             this.placeSteps = placeSteps;
+            width = 1 + Integer.bitCount(kinds);
             isMirror = false;
+            mirroredRole = NONE;
             int found = 0;
-            for (int state = 0; state < marks.length; state++) {
-                int other = otherIn(marks[state]);
+            for (int state = 0; state < count; state++) {
+                int other = otherIn(cell(cells, width * state));
                 found |= other == NONE ? 0 : 1 << other;
             }
             others = found;
@@ -792,25 +818,20 @@ public final class Handshakewarden {
             role = that.onlyOther();
             count = that.count;
             kinds = that.kinds;
+            width = that.width;
             others = 1 << that.role;
-            marks = new int[that.marks.length];
-            for (int state = 0; state < marks.length; state++) {
-                int mark = that.markAt(state);
-                boolean sends = sortIn(mark) == SEND;
-                marks[state] = sortIn(mark) == END ? mark
-                        : markOf(sends ? HEAR : SEND, that.role, kindsIn(mark));
-            }
-            steps = that.steps;
+            cells = that.cells;
             first = that.first;
             placeMarks = that.placeMarks;
             placeSteps = that.placeSteps;
-            isMirror = !that.isMirror;
+            isMirror = true;
+            mirroredRole = that.role;
             mirrored = that;
         }
 
         static Part justEnd(int role) {
             int[] mark = {markOf(END, NONE, 0)};
-            return new Part(role, 0, mark, new int[0], 1L, mark, new long[0]);
+            return new Part(role, 0, 1, mark, 1L, mark, new long[0]);
         }
 
         /** A mark has the sort in its lowest four bits, then the other role and 1, then the kinds. */
@@ -831,34 +852,38 @@ public final class Handshakewarden {
         }
 
         int markAt(int state) {
-            return state >= 0 && state < marks.length ? marks[state] : NONE;
+            return markOf(tells(state, SORT), tells(state, OTHER), tells(state, KIND_SET));
         }
 
         int tells(int state, int what) {
-            if (state < 0 || state >= marks.length) {
+            if (state < 0 || state >= count || width * state >= cells.length) {
                 return NONE;
             }
-            int mark = marks[state];
+            int mark = cells[width * state];
+            int sort = mark & 15;
+            boolean turned = isMirror && sort != END;
             if (what == SORT) {
-                return mark & 15;
+                return turned ? SEND + HEAR - sort : sort;
             }
-            return what == OTHER ? ((mark >>> 4) & 15) - 1 : mark >>> 8;
+            if (what == OTHER) {
+                return turned ? mirroredRole : ((mark >>> 4) & 15) - 1;
+            }
+            return mark >>> 8;
         }
 
         int behind(int state, int kind) {
             if (state < 0 || state >= count || !hasBit(kinds, kind)) {
                 return NONE;
             }
-            return cell(steps, Integer.bitCount(kinds) * state + columnOf(kinds, kind));
+            return cell(cells, width * state + 1 + columnOf(kinds, kind));
         }
 
         /** The places that are behind some places of the part's whole, for a kind. */
         long placesBehind(long places, int kind) {
             long together = 0;
-            int width = Integer.bitCount(kinds);
             int column = columnOf(kinds, kind);
             for (int place = 0; hasBit(kinds, kind) && place < placeMarks.length; place++) {
-                together |= hasPlace(places, place) ? setAt(placeSteps, width * place + column) : 0;
+                together |= hasPlace(places, place) ? setAt(placeSteps, (width - 1) * place + column) : 0;
             }
             return together;
         }
@@ -875,57 +900,12 @@ public final class Handshakewarden {
             return mirrored;
         }
 
-        /** The same part with the states as one that nothing tells apart; of a part that is no mirror. */
-        Part folded(Rows rows) {
-            if (fold == null) {
-                int[] classes = stateClasses(rows);
-                fold = rows.count < count ? foldedBy(classes, rows.count) : this;
+        /** Somebody has the part; a mirror has its cells from the part that it mirrors. */
+        void hold() {
+            held = true;
+            if (mirrored != null) {
+                mirrored.held = true;
             }
-            return fold;
-        }
-
-        /** The class of each state: classes are parted by marks and next classes until they stay. */
-        private int[] stateClasses(Rows rows) {
-            int width = Integer.bitCount(kinds);
-            int[] classes = new int[count];
-            int[] finer = new int[count];
-            int[] probe = new int[width + 2];
-            int known = 0;
-            for (int round = 0; round <= count; round++) {
-                rows.start(width + 2, width + 2, count);
-                for (int state = 0; state < count; state++) {
-                    setCell(probe, 0, marks[state]);
-                    setCell(probe, 1, classes[state]);
-                    for (int column = 0; column < width; column++) {
-                        int next = cell(steps, width * state + column);
-                        setCell(probe, column + 2, cell(classes, next));
-                    }
-                    setCell(finer, state, rows.numberOf(probe));
-                }
-                int[] coarser = classes;
-                classes = finer;
-                finer = coarser;
-                if (rows.count == known) {
-                    break;
-                }
-                known = rows.count;
-            }
-            return classes;
-        }
-
-        private Part foldedBy(int[] classes, int classCount) {
-            int width = Integer.bitCount(kinds);
-            int[] classMarks = new int[classCount];
-            int[] classSteps = new int[classCount * width];
-            for (int state = 0; state < count; state++) {
-                int number = cell(classes, state);
-                setCell(classMarks, number, cell(marks, state));
-                for (int column = 0; column < width; column++) {
-                    int next = cell(steps, width * state + column);
-                    setCell(classSteps, width * number + column, cell(classes, next));
-                }
-            }
-            return new Part(role, kinds, classMarks, classSteps, first, placeMarks, placeSteps);
         }
 
         boolean sameAs(Part that) {
@@ -973,6 +953,14 @@ public final class Handshakewarden {
 
         private Part partOf(int role) {
             return role >= 0 && role < ROLES ? parts[role] : null;
+        }
+
+        void holdParts() {
+            for (int role = 0; role < ROLES; role++) {
+                if (parts[role] != null) {
+                    parts[role].hold();
+                }
+            }
         }
 
         int tells(int role, int state, int what) {
@@ -1118,6 +1106,18 @@ public final class Handshakewarden {
         void keepPart(int slot, Part found) {
             if (slot >= 0 && slot < SLOTS) {
                 slots[slot] = found;
+            }
+        }
+
+        void holdParts() {
+            for (int whole = 0; whole < WHOLES; whole++) {
+                wholeIn(whole).holdParts();
+            }
+            for (int slot = 0; slot < SLOTS; slot++) {
+                partIn(slot).hold();
+            }
+            if (cast != null) {
+                cast.holdParts();
             }
         }
 
@@ -1616,17 +1616,20 @@ public final class Handshakewarden {
 
     /** Cuts wholes: states are sets of places, kept as two numbers each. */
     private static final class Cutter {
+        /** Of so many parts it is known whether their room may be used again. */
+        private static final int MADE_LIMIT = 256;
+
         private final Rows sets = new Rows();
         private final int[] probe = new int[2];
         private final long[] reach = new long[PLACE_LIMIT];
         private final long[] shown = new long[PLACE_LIMIT];
         private final Part[] nobody = new Part[ROLES];
-        /** The marks and next states of the part that is cut, and what is behind its places. */
-        private int[] marks = new int[PLACE_LIMIT];
-        private int[] steps = new int[PLACE_LIMIT];
+        private final Part[] made = new Part[MADE_LIMIT];
+        /** The cells of the part that is cut, and what is behind its places. */
+        private int[] cells = new int[PLACE_LIMIT];
         private final int[] placeMarks = new int[PLACE_LIMIT];
         private final long[] placeSteps = new long[PLACE_LIMIT * KINDS];
-        /** All kinds of the role's LETTERs, and how many there are. */
+        /** All kinds of the role's LETTERs, and how many cells each state has. */
         private int kinds;
         private int width;
         private Whole whole;
@@ -1643,6 +1646,15 @@ public final class Handshakewarden {
         Cutter() {
             for (int one = 0; one < ROLES; one++) {
                 nobody[one] = Part.justEnd(one);
+            }
+        }
+
+        /** Nobody has any part, as long as nobody tells that it does. */
+        void letGo() {
+            for (int number = 0; number < MADE_LIMIT; number++) {
+                if (made[number] != null) {
+                    made[number].held = false;
+                }
             }
         }
 
@@ -1687,9 +1699,41 @@ public final class Handshakewarden {
                     return null;
                 }
             }
-            return new Part(role, kinds, Arrays.copyOf(marks, sets.count),
-                    Arrays.copyOf(steps, width * sets.count), setAt(shown, 0),
-                    Arrays.copyOf(placeMarks, count), Arrays.copyOf(placeSteps, width * count));
+            return madePart();
+        }
+
+        /** The part of which the cells were written, in the room of one that nobody has, if there is one. */
+        private Part madePart() {
+            int length = width * sets.count;
+            int number = placeToKeep(length);
+            Part before = number == NONE ? null : made[number];
+            int[] room = before == null ? Arrays.copyOf(cells, length) : before.cells;
+            if (before != null && length <= cells.length && length <= room.length) {
+                System.arraycopy(cells, 0, room, 0, length);
+            }
+            Part part = new Part(role, kinds, sets.count, room, setAt(shown, 0),
+                    Arrays.copyOf(placeMarks, count), Arrays.copyOf(placeSteps, (width - 1) * count));
+            if (number != NONE) {
+                made[number] = part;
+            }
+            return part;
+        }
+
+        /** Where a part is that nobody has, with room enough but not far too much; else a place that is free. */
+        private int placeToKeep(int length) {
+            int best = NONE;
+            int least = 2 * length + PLACE_LIMIT;
+            for (int number = 0; number < MADE_LIMIT; number++) {
+                Part part = made[number];
+                if (part == null) {
+                    return best == NONE ? number : best;
+                }
+                if (!part.held && part.cells.length >= length && part.cells.length < least) {
+                    best = number;
+                    least = part.cells.length;
+                }
+            }
+            return best;
         }
 
         /** For each place, the places that can be come to from it, itself among them. */
@@ -1761,14 +1805,14 @@ public final class Handshakewarden {
             for (int place = 0; place < count; place++) {
                 kinds |= hasPlace(own, place) ? whole.tells(place, Whole.KIND_SET) : 0;
             }
-            width = Integer.bitCount(kinds);
+            width = 1 + Integer.bitCount(kinds);
             for (int place = 0; place < count; place++) {
                 boolean takesPart = hasPlace(own, place);
                 setCell(placeMarks, place, takesPart ? markOf(place) : Part.markOf(END, NONE, 0));
                 for (int kind = 0; kind < KINDS; kind++) {
                     if (hasBit(kinds, kind)) {
                         int next = takesPart ? whole.behind(place, kind) : NONE;
-                        putSet(placeSteps, width * place + columnOf(kinds, kind), setAt(shown, next));
+                        putSet(placeSteps, (width - 1) * place + columnOf(kinds, kind), setAt(shown, next));
                     }
                 }
             }
@@ -1814,11 +1858,11 @@ public final class Handshakewarden {
 
         /** Writes the state of a set whose places go together; false if there is no room. */
         private boolean makeState(int state, long set) {
-            marks = wider(marks, state + 1);
-            steps = wider(steps, width * (state + 1));
+            int base = width * state;
+            cells = wider(cells, base + width);
             int all = 0;
-            for (int column = 0; column < width; column++) {
-                setCell(steps, width * state + column, NONE);
+            for (int column = 1; column < width; column++) {
+                setCell(cells, base + column, NONE);
             }
             for (int kind = 0; kind < KINDS; kind++) {
                 long behind = hasBit(kinds, kind) ? behindAll(set, kind) : 0;
@@ -1828,11 +1872,11 @@ public final class Handshakewarden {
                     if (number == NONE) {
                         return false;
                     }
-                    setCell(steps, width * state + columnOf(kinds, kind), number);
+                    setCell(cells, base + 1 + columnOf(kinds, kind), number);
                 }
             }
             int mark = cell(placeMarks, lowestPlace(set));
-            setCell(marks, state, Part.markOf(Part.sortIn(mark), Part.otherIn(mark), all));
+            setCell(cells, base, Part.markOf(Part.sortIn(mark), Part.otherIn(mark), all));
             return true;
         }
 
@@ -1840,7 +1884,7 @@ public final class Handshakewarden {
             long together = 0;
             int column = columnOf(kinds, kind);
             for (int place = 0; place < count; place++) {
-                together |= hasPlace(set, place) ? setAt(placeSteps, width * place + column) : 0;
+                together |= hasPlace(set, place) ? setAt(placeSteps, (width - 1) * place + column) : 0;
             }
             return together;
         }
@@ -1867,7 +1911,7 @@ public final class Handshakewarden {
         private static final int DEEPEST = 1 << 30;
 
         private final Rows rows = new Rows();
-        private final int[] probe = new int[1];
+        private final int[] probe = new int[KINDS + 2];
 
         /** The parts that were held last, how long the row is that shows, and its kinds from a place on. */
         private Part one;
@@ -1876,10 +1920,11 @@ public final class Handshakewarden {
         private int from;
         private long kept;
 
+        /** What is looked at in place of them, null if nothing is; and the cells of folded parts. */
         private Part low;
         private Part high;
-        /** Whether sets of places of the higher part are looked at, or its states, one each. */
-        private boolean byPlaces;
+        private int[] lowCells = new int[FIRST_ROOM];
+        private int[] highCells = new int[FIRST_ROOM];
         private long[] seen = new long[FIRST_ROOM];
         private int seenWords;
 
@@ -1910,24 +1955,39 @@ public final class Handshakewarden {
             return (int) (kept >>> (4 * (place - from))) & 15;
         }
 
-        /**
-         * Finds the row that shows, and keeps its kinds from a place on (NONE is any place). Of a part that
-         * is cut, and no mirror, each place of a set may be looked at alone: all that SEND have the same
-         * kinds, and a kind of one that HEARs is one of the set. Two mirrors change sides.
-         */
+        /** Finds the row that shows, and keeps its kinds from a place on (NONE is any place). */
         private void hold(Part asked, Part other, int start) {
-            if (asked == one && other == two && (start == NONE || start == from)) {
+            boolean known = asked == one && other == two;
+            if (known && (start == NONE || start == from)) {
                 return;
             }
-            one = asked;
-            two = other;
+            if (!known) {
+                one = asked;
+                two = other;
+                takeSides(asked, other);
+            }
             from = Math.max(start, 0);
             kept = 0;
             length = NONE;
+            if (low == null || high == null) {
+                return;
+            }
+            startSearch();
+            for (int depth = 0; nextSize > 0 && length == NONE && depth < DEEPEST; depth++) {
+                goOnFrom(depth);
+            }
+        }
+
+        /**
+         * Of a part that is cut, and no mirror, each place of a set may be looked at alone: all that SEND have
+         * the same kinds, and a kind of one that HEARs is one of the set. Two mirrors change sides.
+         */
+        private void takeSides(Part asked, Part other) {
+            low = null;
+            high = null;
             if (asked == null || other == null || asked.role != other.role) {
                 return;
             }
-            byPlaces = asked.isMirror || !other.isMirror;
             if (!other.isMirror) {
                 low = asked;
                 high = other;
@@ -1935,16 +1995,56 @@ public final class Handshakewarden {
                 low = other.turned();
                 high = asked.turned();
             } else {
-                low = asked.folded(rows);
-                high = other.turned().folded(rows).turned();
+                Part original = other.turned();
+                lowCells = wider(lowCells, asked.width * asked.count);
+                highCells = wider(highCells, original.width * original.count);
+                findClasses(asked);
+                low = folded(asked, lowCells);
+                findClasses(original);
+                high = folded(original, highCells).turned();
             }
-            if (low.role != high.role) {
-                length = 0;
-                return;
+        }
+
+        /** The same part with each class of states as one, in a room that is large enough. */
+        private Part folded(Part part, int[] room) {
+            int width = part.width;
+            for (int state = 0; state < part.count; state++) {
+                int base = width * cell(states, state);
+                setCell(room, base, part.markAt(state));
+                for (int column = 1; column < width; column++) {
+                    int next = cell(part.cells, width * state + column);
+                    setCell(room, base + column, cell(states, next));
+                }
             }
-            startSearch();
-            for (int depth = 0; nextSize > 0 && length == NONE && depth < DEEPEST; depth++) {
-                goOnFrom(depth);
+            return new Part(part.role, part.kinds, rows.count, room, part.first, part.placeMarks,
+                    part.placeSteps);
+        }
+
+        /** The class of each state, of those that nothing tells apart: by marks and next classes, until they stay. */
+        private void findClasses(Part part) {
+            int width = part.width;
+            states = wider(states, part.count);
+            nextStates = wider(nextStates, part.count);
+            Arrays.fill(states, 0);
+            int known = 0;
+            for (int round = 0; round <= part.count; round++) {
+                rows.start(width + 1, width + 1, part.count);
+                for (int state = 0; state < part.count; state++) {
+                    setCell(probe, 0, part.markAt(state));
+                    setCell(probe, width, cell(states, state));
+                    for (int column = 1; column < width; column++) {
+                        int next = cell(part.cells, width * state + column);
+                        setCell(probe, column, cell(states, next));
+                    }
+                    setCell(nextStates, state, rows.numberOf(probe));
+                }
+                int[] coarser = states;
+                states = nextStates;
+                nextStates = coarser;
+                if (rows.count == known) {
+                    break;
+                }
+                known = rows.count;
             }
         }
 
@@ -1954,7 +2054,7 @@ public final class Handshakewarden {
             }
             seenWords = 0;
             nextSize = 0;
-            keep(0, byPlaces ? high.first : 0, 0L);
+            keep(0, high.isMirror ? 0 : high.first, 0L);
         }
 
         /** Looks at the rows of one length: whether one shows, otherwise what those behind them lead to. */
@@ -1986,7 +2086,7 @@ public final class Handshakewarden {
 
         private boolean cannotBe(int state, long point) {
             int mark = low.markAt(state);
-            if (!byPlaces) {
+            if (high.isMirror) {
                 return !mayBeBelow(mark, high.markAt((int) point));
             }
             boolean right = true;
@@ -2013,7 +2113,7 @@ public final class Handshakewarden {
                 int next = low.behind(state, kind);
                 boolean labelled = depth >= from && depth < from + KEPT;
                 long added = labelled ? (long) kind << (4 * (depth - from)) : 0;
-                if (next != NONE && byPlaces) {
+                if (next != NONE && !high.isMirror) {
                     keep(next, high.placesBehind(point, kind), label | added);
                 } else if (next != NONE && high.behind((int) point, kind) != NONE) {
                     keep(next, high.behind((int) point, kind), label | added);
@@ -2023,6 +2123,7 @@ public final class Handshakewarden {
 
         /** Keeps what was not come to before; of places, those that did not come with this state. */
         private void keep(int state, long point, long label) {
+            boolean byPlaces = !high.isMirror;
             long fresh = byPlaces ? unseen(state, point) : point;
             long pair = (long) state * high.count + point;
             if (byPlaces ? fresh == 0 : unseen(pair / 64, 1L << (pair % 64)) == 0) {

@@ -303,6 +303,15 @@ public final class EdgePartTest {
             Check.due("the first kind again", ahead == 0 ? 0 : 7, hall.showsAt(0, 1, 0));
             Check.due("the last kind", 0, hall.showsAt(0, 1, 13 + ahead));
             Check.dueOutOfBounds("behind it", () -> hall.showsAt(0, 1, 100));
+            hall.part(0, 1, 2);
+            hall.part(1, 1, 3);
+            hall.mirror(2, 2);
+            hall.mirror(3, 3);
+            row(hall, 0, 3, "7".repeat(ahead) + "0".repeat(14));
+            row(hall, 2, 1, "7".repeat(ahead) + "0".repeat(14));
+            row(hall, 2, 3, "7".repeat(ahead) + "0".repeat(14));
+            row(hall, 0, 2, "below");
+            row(hall, 2, 0, "below");
         }
     }
 

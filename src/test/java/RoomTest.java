@@ -18,16 +18,20 @@ public final class RoomTest {
         fits("texts with errors", RoomTest::errors);
         fits("parts held that are far apart", RoomTest::farApart);
         fits("a part of each sort held against very many states", RoomTest::evenAndMany);
-        fits("very many states again and again", RoomTest::manyStates, 2 * ROOM);
+        measure("very many states again and again", RoomTest::manyStates, ROOM);
+        measure("very many states of woven wholes", RoomTest::wovenAgain, ROOM);
+        measure("very many states, folded and held", RoomTest::wovenAndHeld, ROOM);
+        measure("very many states in slots, runs and images", RoomTest::heldInImages, ROOM);
         Check.end("RoomTest");
     }
 
+    /** Runs twice, so that what the machine makes for itself the first time does not count. */
     private static void fits(String name, Runnable run) {
-        fits(name, run, ROOM);
+        run.run();
+        measure(name, run, ROOM);
     }
 
-    private static void fits(String name, Runnable run, long room) {
-        run.run();
+    private static void measure(String name, Runnable run, long room) {
         com.sun.management.ThreadMXBean threads =
                 (com.sun.management.ThreadMXBean) ManagementFactory.getThreadMXBean();
         long before = threads.getCurrentThreadAllocatedBytes();
@@ -157,6 +161,52 @@ public final class RoomTest {
         for (int call = 0; call + 14 <= 512; call += 14) {
             readWide(hall, 0, FarTest.MANY);
             hall.part(0, 3, call / 14 % 8);
+        }
+    }
+
+    /** A run of c, who decides all, and of others who hear all; its whole has a part of d as large as can be. */
+    private static Handshakewarden wovenRun() {
+        Handshakewarden hall = new Handshakewarden();
+        readWide(hall, 0, FarTest.MANY.replace("a>b", "c>a"));
+        hall.part(0, 2, 0);
+        readWide(hall, 1, "loop x c>d{0:x,1:x}");
+        hall.part(1, 3, 1);
+        readWide(hall, 1, "loop x c>a{0:x,1:x}");
+        hall.part(1, 0, 2);
+        readWide(hall, 1, "c>d{0:c>a{0:end}}");
+        hall.begin(1, 1);
+        hall.put(0);
+        hall.put(1);
+        hall.put(2);
+        return hall;
+    }
+
+    private static void wovenAgain() {
+        Handshakewarden hall = wovenRun();
+        for (int call = 40; call + 2 <= 512; call += 2) {
+            Check.due("woven", 22, hall.back(2));
+            Check.due("states", 29623, hall.part(2, 3, 3));
+        }
+    }
+
+    private static void wovenAndHeld() {
+        Handshakewarden hall = wovenRun();
+        readWide(hall, 0, FarTest.EVEN);
+        hall.part(0, 2, 6);
+        for (int call = 40; call + 4 <= 512; call += 4) {
+            hall.back(2);
+            hall.part(2, 3, 3);
+            hall.mirror(3, 4);
+            Check.due("fit", false, hall.fit(3, 6));
+        }
+    }
+
+    private static void heldInImages() {
+        Handshakewarden hall = wovenRun();
+        for (int call = 40; call + 3 <= 512; call += 3) {
+            hall.back(call % 4);
+            Check.due("states", 29623, hall.part(call % 4, 3, call / 3 % 8));
+            hall.image(call / 24 % 2);
         }
     }
 }
