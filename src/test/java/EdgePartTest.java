@@ -344,6 +344,14 @@ public final class EdgePartTest {
         }
         Check.due("END of the same role", true, hall.isBelow(4, 5));
         Check.due("shows nothing, too", NONE, hall.shows(4, 5));
+        Handshakewarden other = two(0, "a>b{3:a>b{0:end}}", "a>b{3:a>b{1:end}}");
+        other.part(0, 1, 2);
+        row(other, 0, 1, "3");
+        Check.due("behind a row that shows", NONE, other.shows(0, 2));
+        Check.due("and ahead of one", 1, other.shows(0, 1));
+        Check.due("behind one again", NONE, other.shows(2, 1));
+        Check.dueOutOfBounds("no row", () -> other.showsAt(2, 1, 0));
+        Check.due("not below", false, other.isBelow(2, 0));
     }
 
     private static void fits(boolean due, String one, int role, String other, int otherRole) {
@@ -375,6 +383,11 @@ public final class EdgePartTest {
         fits(false, "a>b{0:end}", 0, "b>a{0:end}", 1);
         fits(false, "a>b{0:end}", 0, "a>b{0:a>b{0:end}}", 1);
         fits(true, "loop x a>b{0:b>a{0:x}}", 0, "a>b{0:loop x b>a{0:a>b{0:x}}}", 1);
+        String nine = "a>b{0:end,1:end,2:end,3:end,4:end,5:end,6:end,7:end,8:end,9:";
+        fits(true, nine + "end}", 0, nine + "end}", 1);
+        fits(false, nine + "a>b{0:end}}", 0, nine + "end}", 1);
+        fits(true, nine + "a>b{0:end}}", 0, nine + "a>b{0:end,1:end}}", 1);
+        fits(false, nine + "a>b{0:end,1:end}}", 0, nine + "a>b{0:end}}", 1);
         Handshakewarden hall = Check.hallOf("c>f{0:f>c{1:end},9:end}", "c>f{0:end,9:end}");
         hall.part(0, 2, 0);
         hall.mirror(0, 1);
