@@ -1972,6 +1972,10 @@ public final class Handshakewarden {
             if (low == null || high == null) {
                 return;
             }
+            if (low.role != high.role) {
+                length = 0;
+                return;
+            }
             startSearch();
             for (int depth = 0; nextSize > 0 && length == NONE && depth < DEEPEST; depth++) {
                 goOnFrom(depth);
@@ -1980,7 +1984,8 @@ public final class Handshakewarden {
 
         /**
          * Of a part that is cut, and no mirror, each place of a set may be looked at alone: all that SEND have
-         * the same kinds, and a kind of one that HEARs is one of the set. Two mirrors change sides.
+         * the same kinds, and a kind of one that HEARs is one of the set. Two mirrors change sides; the parts of
+         * which they are may be of unlike roles, so that their first states already have unlike other roles.
          */
         private void takeSides(Part asked, Part other) {
             low = null;

@@ -17,6 +17,7 @@ public final class EdgePartTest {
         sendBelowSend();
         hearBelowHear();
         sortsAndRolesMustBeTheSame();
+        mirrorsOfUnlikeRoles();
         nextStatesMustBeBelow();
         notShownOtherwiseIsBelow();
         rowOfNoKind();
@@ -241,6 +242,29 @@ public final class EdgePartTest {
         row(two(1, "a>b{0:end}", "f>b{0:end}"), 0, 1, "");
         row(two(0, "a>b{0:end}", "b>a{0:end}"), 0, 1, "");
         row(two(0, "b>a{0:end}", "a>b{0:end}"), 0, 1, "");
+    }
+
+    /** "SEND to the same role", "HEAR from the same role": mirrors of one role may have unlike other roles. */
+    private static void mirrorsOfUnlikeRoles() {
+        String[] ahead = {"c>e", "e>c"};
+        for (String first : ahead) {
+            for (String behind : new String[] {"{0:end}", "{0:end,9:end}", "{0:c>e{1:end}}", "{0:e>c{1:end}}"}) {
+                String text = first + behind;
+                Handshakewarden hall = Check.hallOf(text, text.replace('e', 'f').replace("fnd", "end"), text);
+                hall.part(0, 4, 0);
+                hall.part(1, 5, 1);
+                hall.part(2, 2, 2);
+                Check.due("mirror of e", 2, hall.mirror(0, 3));
+                Check.due("mirror of f", 2, hall.mirror(1, 4));
+                row(hall, 3, 4, "");
+                row(hall, 4, 3, "");
+                row(hall, 2, 4, "");
+                row(hall, 4, 2, "");
+                row(hall, 2, 3, "below");
+                row(hall, 3, 2, "below");
+                row(hall, 3, 3, "below");
+            }
+        }
     }
 
     /** "and the next states are below for these". */

@@ -23,16 +23,24 @@ public final class ScenarioTest {
         int count = args.length > 1 ? Integer.parseInt(args[1]) : SCENES;
         for (int seed = first; seed < first + count; seed++) {
             ScenarioTest scene = new ScenarioTest(seed);
-            scene.fillWholes();
-            switch (seed % 4) {
-                case 0 -> scene.askAllOfWholes();
-                case 1 -> scene.holdParts();
-                case 2 -> scene.runOn(false);
-                default -> scene.runOn(true);
+            if (seed % 12 == 1) {
+                scene.holdTurned();
+            } else {
+                scene.play(seed % 4);
             }
             scene.same("errors", () -> scene.hall.errors(), () -> scene.model.errors());
         }
         Check.end("ScenarioTest");
+    }
+
+    private void play(int what) {
+        fillWholes();
+        switch (what) {
+            case 0 -> askAllOfWholes();
+            case 1 -> holdParts();
+            case 2 -> runOn(false);
+            default -> runOn(true);
+        }
     }
 
     private Object same(String call, Check.Call asked, Check.Call due) {
@@ -113,13 +121,38 @@ public final class ScenarioTest {
                 same("mirror(" + slot + "," + to, () -> hall.mirror(slot, to), () -> model.mirror(slot, to));
             }
         }
+        holdSlots();
+        same("checksum", () -> hall.checksum(), () -> model.checksum());
+    }
+
+    private void holdSlots() {
         for (int i = 0; i < 8; i++) {
             askPart(i);
             for (int j = 0; j < 8; j++) {
                 holdPair(i, j);
             }
         }
-        same("checksum", () -> hall.checksum(), () -> model.checksum());
+    }
+
+    /** Wholes that are nearly the same, of a and one other role each; most slots get mirrors of role a. */
+    private void holdTurned() {
+        String text = texts.ofTwo();
+        for (int whole = 0; whole < 4; whole++) {
+            String next = random.nextInt(3) == 0 ? text : texts.variant(text);
+            next = Texts.withoutB(next, (char) ('b' + random.nextInt(3)));
+            fill(whole, next.length() <= 240 ? next : "a>b{0:end}");
+        }
+        for (int i = 0; i < 16; i++) {
+            int whole = random.nextInt(4);
+            int role = random.nextInt(4);
+            int slot = i % 8;
+            same("part(" + whole + "," + role + "," + slot, () -> hall.part(whole, role, slot),
+                    () -> model.part(whole, role, slot));
+            if (role > 0) {
+                same("mirror(" + slot, () -> hall.mirror(slot, slot), () -> model.mirror(slot, slot));
+            }
+        }
+        holdSlots();
     }
 
     private void askPart(int slot) {

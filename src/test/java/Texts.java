@@ -34,6 +34,23 @@ final class Texts {
         return whole(roles, new ArrayList<>(), new ArrayList<>(), 0, informing ? roles.get(0) : -1);
     }
 
+    /** A text of the roles a and b alone. */
+    String ofTwo() {
+        room = 20 + random.nextInt(100);
+        List<Integer> roles = new ArrayList<>(List.of(0, 1));
+        return whole(roles, new ArrayList<>(), new ArrayList<>(), 0, -1);
+    }
+
+    /** The same text with another role in place of b. */
+    static String withoutB(String text, char role) {
+        StringBuilder other = new StringBuilder(text);
+        for (int at = 0; at < text.length(); at++) {
+            boolean stands = text.startsWith("b>", at) || at > 0 && text.startsWith(">b", at - 1);
+            other.setCharAt(at, stands ? role : text.charAt(at));
+        }
+        return other.toString();
+    }
+
     /** One to three bytes of a text are different, away, or more. */
     String spoiled(String text) {
         StringBuilder wrong = new StringBuilder(text);
