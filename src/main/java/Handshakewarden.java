@@ -878,12 +878,16 @@ public final class Handshakewarden {
             return cell(cells, width * state + 1 + columnOf(kinds, kind));
         }
 
-        /** The places that are behind some places of the part's whole, for a kind. */
-        long placesBehind(long places, int kind) {
+        /** All that is behind some places for a kind; the steps have a set for each place and each of the kinds. */
+        static long placesBehind(long places, long[] steps, int kinds, int kind) {
             long together = 0;
+            int columns = Integer.bitCount(kinds);
             int column = columnOf(kinds, kind);
-            for (int place = 0; hasBit(kinds, kind) && place < placeMarks.length; place++) {
-                together |= hasPlace(places, place) ? setAt(placeSteps, (width - 1) * place + column) : 0;
+            if (!hasBit(kinds, kind)) {
+                return 0;
+            }
+            for (int place = 0; place < PLACE_LIMIT && places >>> place != 0; place++) {
+                together |= hasPlace(places, place) ? setAt(steps, columns * place + column) : 0;
             }
             return together;
         }
@@ -1865,7 +1869,7 @@ public final class Handshakewarden {
                 setCell(cells, base + column, NONE);
             }
             for (int kind = 0; kind < KINDS; kind++) {
-                long behind = hasBit(kinds, kind) ? behindAll(set, kind) : 0;
+                long behind = Part.placesBehind(set, placeSteps, kinds, kind);
                 if (behind != 0) {
                     all |= 1 << kind;
                     int number = sets.numberOf(probeOf(behind));
@@ -1878,15 +1882,6 @@ public final class Handshakewarden {
             int mark = cell(placeMarks, lowestPlace(set));
             setCell(cells, base, Part.markOf(Part.sortIn(mark), Part.otherIn(mark), all));
             return true;
-        }
-
-        private long behindAll(long set, int kind) {
-            long together = 0;
-            int column = columnOf(kinds, kind);
-            for (int place = 0; place < count; place++) {
-                together |= hasPlace(set, place) ? setAt(placeSteps, (width - 1) * place + column) : 0;
-            }
-            return together;
         }
 
         private int[] probeOf(long set) {
@@ -2119,7 +2114,7 @@ public final class Handshakewarden {
                 boolean labelled = depth >= from && depth < from + KEPT;
                 long added = labelled ? (long) kind << (4 * (depth - from)) : 0;
                 if (next != NONE && !high.isMirror) {
-                    keep(next, high.placesBehind(point, kind), label | added);
+                    keep(next, Part.placesBehind(point, high.placeSteps, high.kinds, kind), label | added);
                 } else if (next != NONE && high.behind((int) point, kind) != NONE) {
                     keep(next, high.behind((int) point, kind), label | added);
                 }
